@@ -87,7 +87,8 @@ public final class SealCouncil {
     private static final int LAW_MADE = 2;
     private static final int LAW_STRUCK = 3;
     private static final int LAW_LENGTH = 4;
-    private static final int LAW_WIDTH = 5;
+    private static final int LAW_NAMES_DAY = 5;
+    private static final int LAW_WIDTH = 6;
     private static final int USE_RULES = 0;
     private static final int USE_GOOD = 1;
     private static final int USE_FOLLOWS = 2;
@@ -1205,6 +1206,7 @@ public final class SealCouncil {
     private static final class Reader {
         private static final String NAMES = "askcmtbyowd";
         private static final int FIRST_NAME = -20;
+        private static final int DAY_NAME = -30;
         private static final int NOT = -1;
         private static final int OR = -2;
         private static final int AND = -3;
@@ -1358,7 +1360,25 @@ public final class SealCouncil {
             for (int i = 0; i < n; i++) {
                 realm.codes.set(law, i, reader.steps.get(i, 0));
             }
+            realm.laws.set(law, LAW_NAMES_DAY, reader.steps.rowsWith(0, Reader.DAY_NAME));
             return law;
+        }
+
+        boolean namesDay(int law) {
+            return realm.laws.get(law, LAW_NAMES_DAY) != 0;
+        }
+
+        /** The next day behind one from which on a LAW of a USE is; behind the LAST_DAY if there is none. */
+        int nextBeginning(int use, int day) {
+            int next = LAST_DAY + 1;
+            int n = realm.laws.used();
+            for (int law = 0; law < n; law++) {
+                int from = realm.laws.get(law, LAW_FROM);
+                if (from > day && realm.laws.get(law, LAW_USE) == use) {
+                    next = Math.min(next, from);
+                }
+            }
+            return next;
         }
 
         boolean isStruck(int law) {
@@ -1599,10 +1619,12 @@ public final class SealCouncil {
 
     /** PROMISES, WEIGHTS and BUYING. What was weighed or found last stands in its fields. */
     private static final class Council {
+        private static final int NO_PRICE = 1000000;
+
         private final Realm realm;
         private final Laws laws;
         private final Table rows;
-        private final int[] weights;
+        private final Table weights;
         private final Table buyable;
         private int weightFor;
         private int weightOfAll;
@@ -1613,7 +1635,7 @@ public final class SealCouncil {
             this.realm = realm;
             this.laws = laws;
             rows = realm.promises;
-            weights = new int[MOST_PERSONS];
+            weights = new Table(MOST_PERSONS, 1);
             buyable = new Table(MOST_SEATED, 1);
         }
 
@@ -1685,16 +1707,21 @@ public final class SealCouncil {
             weightOfAll = 0;
             buyable.clear();
             int law = ruleInForce();
-            for (int p = 0; p < weights.length; p++) {
-                if (realm.persons.has(p) && realm.persons.get(p, PERSON_SEATED) != 0) {
-                    weights[p] = weightOf(p, law);
-                    weightOfAll += weights[p];
-                    if (isPromisedFor(p, cause)) {
-                        weightFor += weights[p];
-                    } else {
-                        buyable.append(p);
-                    }
+            int n = realm.persons.used();
+            for (int p = 0; p < n; p++) {
+                if (realm.persons.get(p, PERSON_SEATED) != 0) {
+                    weighOne(p, cause, weightOf(p, law));
                 }
+            }
+        }
+
+        private void weighOne(int p, int cause, int weight) {
+            weights.set(p, 0, weight);
+            weightOfAll += weight;
+            if (isPromisedFor(p, cause)) {
+                weightFor += weight;
+            } else {
+                buyable.append(p);
             }
         }
 
@@ -1727,59 +1754,36 @@ public final class SealCouncil {
             return 2 * (weightFor + more) > weightOfAll;
         }
 
-        /** Tries every set of those who may be bought: at most 512, as 9 are SEATED at most. */
         boolean findCheapest(int cause) {
             weigh(cause);
-            boolean found = false;
-            int sets = 1 << buyable.used();
-            for (int choice = 0; choice < sets; choice++) {
-                int set = personsOf(choice);
-                int price = priceOf(set);
-                boolean better = !found || price < cheapestPrice
-                        || price == cheapestPrice && isSmaller(set, cheapestSet);
-                if (better && isCarriedWith(weightOfSet(set))) {
-                    found = true;
-                    cheapestPrice = price;
-                    cheapestSet = set;
-                }
-            }
-            return found;
+            cheapestPrice = NO_PRICE;
+            cheapestSet = 0;
+            choose(0, 0, 0, 0);
+            return cheapestPrice < NO_PRICE;
         }
 
-        private static boolean isSmaller(int set, int other) {
-            int fewer = Integer.bitCount(set) - Integer.bitCount(other);
-            return fewer < 0 || fewer == 0 && set < other;
+        /** Tries with and without each who may be bought from the i-th on: 9 deep at most, as 9 are SEATED. */
+        private void choose(int i, int set, int price, int weight) {
+            if (price > cheapestPrice) {
+                return;
+            }
+            if (isCarriedWith(weight)) {
+                keepIfBetter(set, price);
+            }
+            if (i < MOST_SEATED && buyable.has(i)) {
+                int p = buyable.get(i, 0);
+                choose(i + 1, set, price, weight);
+                choose(i + 1, set | 1 << p, price + realm.persons.get(p, PERSON_PRICE), weight + weights.get(p, 0));
+            }
         }
 
-        private int personsOf(int choice) {
-            int set = 0;
-            int n = buyable.used();
-            for (int i = 0; i < n; i++) {
-                if ((choice >> i & 1) != 0) {
-                    set |= 1 << buyable.get(i, 0);
-                }
+        private void keepIfBetter(int set, int price) {
+            int fewer = Integer.bitCount(set) - Integer.bitCount(cheapestSet);
+            boolean smaller = fewer < 0 || fewer == 0 && set < cheapestSet;
+            if (price < cheapestPrice || price == cheapestPrice && smaller) {
+                cheapestPrice = price;
+                cheapestSet = set;
             }
-            return set;
-        }
-
-        private int priceOf(int set) {
-            int price = 0;
-            for (int p = 0; p < MOST_PERSONS; p++) {
-                if ((set >> p & 1) != 0) {
-                    price += realm.persons.get(p, PERSON_PRICE);
-                }
-            }
-            return price;
-        }
-
-        private int weightOfSet(int set) {
-            int weight = 0;
-            for (int p = 0; p < weights.length; p++) {
-                if ((set >> p & 1) != 0) {
-                    weight += weights[p];
-                }
-            }
-            return weight;
         }
     }
 
@@ -1830,8 +1834,18 @@ public final class SealCouncil {
             if (!realm.persons.has(CHILD)) {
                 return NONE;
             }
+            int born = realm.persons.get(CHILD, PERSON_BORN);
+            int law = -1;
+            int beginning = realm.day;
             for (int day = realm.day; day <= LAST_DAY; day++) {
-                if (laws.ruling(USE_AGE, day, realm.day, CHILD, -1) != 0) {
+                boolean begins = day == beginning;
+                if (begins) {
+                    law = laws.inForce(USE_AGE, day, realm.day);
+                    beginning = laws.nextBeginning(USE_AGE, day);
+                }
+                // On other days neither the LAW nor a NAME in it is another than the day before.
+                boolean mayChange = begins || (day - born) % YEAR_DAYS == 0 || laws.namesDay(law);
+                if (mayChange && (law < 0 || laws.comesTo(law, CHILD, -1, day) != 0)) {
                     return day;
                 }
             }
@@ -1867,18 +1881,18 @@ public final class SealCouncil {
             }
         }
 
-        boolean winsWithin(int hours, int taken, int men) {
+        private boolean winsWithin(int hours, int taken, int men) {
             return hours > 0 && (winsByTaking(hours, taken, men) || winsByWaiting(hours, taken, men));
         }
 
-        boolean winsByTaking(int hours, int taken, int men) {
+        private boolean winsByTaking(int hours, int taken, int men) {
             if (taken < 0 || taken >= guards.length || men <= guards[taken]) {
                 return false;
             }
             return taken == told || winsWhatever(hours - 1, taken + 1, men - guards[taken]);
         }
 
-        boolean winsByWaiting(int hours, int taken, int men) {
+        private boolean winsByWaiting(int hours, int taken, int men) {
             return winsWhatever(hours - 1, taken, men);
         }
 
@@ -1919,6 +1933,7 @@ public final class SealCouncil {
         private final Realm realm;
         private final int[] coin = new int[SETS];
         private final int[] pledges = new int[SETS];
+        private final int[] rents = new int[SETS];
         private int free;
         private int bestLeaves;
         private int bestPledges;
@@ -1936,6 +1951,9 @@ public final class SealCouncil {
                 boolean mayBe = realm.towns.has(t) && realm.towns.get(t, TOWN_OWNER) == NOBODY
                         && realm.towns.get(t, TOWN_FORFEIT) == 0;
                 free |= mayBe ? 1 << t : 0;
+            }
+            for (int set = 0; set < SETS; set++) {
+                rents[set] = rentsBut(set);
             }
         }
 
@@ -1971,7 +1989,7 @@ public final class SealCouncil {
                 return -1;
             }
             int pledged = choice == 0 ? 0 : 4 * realm.towns.get(choice - 1, TOWN_RENT);
-            return Math.max(-1, coin[was] + rentsBut(was) + pledged - cost);
+            return Math.max(-1, coin[was] + rents[was] + pledged - cost);
         }
 
         private int rentsBut(int set) {
@@ -1987,7 +2005,7 @@ public final class SealCouncil {
         boolean findBest() {
             boolean found = false;
             for (int set = 0; set < SETS; set++) {
-                int leaves = coin[set] + 8 * rentsBut(set);
+                int leaves = coin[set] + 8 * rents[set];
                 boolean better = !found || leaves > bestLeaves
                         || leaves == bestLeaves && pledges[set] < bestPledges;
                 if (coin[set] >= 0 && better) {
