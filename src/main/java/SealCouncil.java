@@ -956,29 +956,24 @@ public final class SealCouncil {
             return p;
         }
 
-        /** A new PERSON only ever brings others nearer, so what was found before is where it starts. */
+        /** A new PERSON only ever brings others nearer; a chain of n PERSONS is passed on in n rounds. */
         private void findSteps() {
             int n = persons.used();
-            boolean changed = true;
-            for (int round = 0; round < n && changed; round++) {
-                changed = false;
+            for (int round = 0; round < n; round++) {
                 for (int p = 0; p < n; p++) {
-                    boolean byFather = isNearer(p, persons.get(p, PERSON_FATHER));
-                    boolean byMother = isNearer(p, persons.get(p, PERSON_MOTHER));
-                    changed = changed || byFather || byMother;
+                    bringNearer(p, persons.get(p, PERSON_FATHER));
+                    bringNearer(p, persons.get(p, PERSON_MOTHER));
                 }
             }
         }
 
-        private boolean isNearer(int p, int parent) {
-            if (parent == NOBODY) {
-                return false;
+        private void bringNearer(int p, int parent) {
+            if (parent != NOBODY) {
+                int steps = persons.get(p, PERSON_STEPS);
+                int theirs = persons.get(parent, PERSON_STEPS);
+                persons.set(p, PERSON_STEPS, Math.min(steps, theirs + 1));
+                persons.set(parent, PERSON_STEPS, Math.min(theirs, steps + 1));
             }
-            int own = persons.get(p, PERSON_STEPS);
-            int theirs = persons.get(parent, PERSON_STEPS);
-            persons.set(p, PERSON_STEPS, Math.min(own, theirs + 1));
-            persons.set(parent, PERSON_STEPS, Math.min(theirs, own + 1));
-            return theirs + 1 < own || own + 1 < theirs;
         }
 
         boolean isLiving(int p) {

@@ -18,7 +18,7 @@ import java.util.TreeSet;
 
 /** Random runs of calls on SealCouncil and on Mirror, a second model of the document, must answer alike. */
 public final class MirrorTests {
-    private static final int RUNS = 3000;
+    private static final int RUNS = 1500;
     private static final int CALLS = 512;
     /** look() and what else is begun last take less than this. */
     private static final int LOOKS = 260;
@@ -120,7 +120,7 @@ public final class MirrorTests {
             case 'T': return below(4) == 0 ? one(1, 999999) : 10000 * below(30) + 1 + below(400);
             case 'C': return one(0, 3);
             case 'z': return below(3) != 0;
-            case 'c': return one(0, 5) / 2;
+            case 'c': return below(3) == 0 ? one(0, 5) : one(0, 1);
             case 'P': return one(1, 999) % 9;
             case 'Z': return one(0, 1);
             case 'g': return one(0, 4);
@@ -252,6 +252,20 @@ public final class MirrorTests {
         }
     }
 
+    /** THE CHEST is emptied, so that DEBTS are MISSED, and what is FORFEIT is asked for. */
+    private void ruin() throws ReflectiveOperationException {
+        call("debt", 1 + below(900), 10000 * below(50) + 1 + below(9999), argument('t'));
+        int person = of(mirror.realm.persons.size());
+        for (int i = 0; i < 4 && mirror.realm.chest > 0; i++) {
+            call("pay", person, Math.min(9999, mirror.realm.chest));
+        }
+        call("days", 90 + below(200));
+        for (int i = 0; i < mirror.realm.debts.size(); i++) {
+            call("owed", i, below(4));
+            call("own", mirror.realm.debts.get(i).pledge, argument('h'));
+        }
+    }
+
     private void readSheet() throws ReflectiveOperationException {
         int sheet = below(4);
         int bits = 8 << below(3);
@@ -322,6 +336,8 @@ public final class MirrorTests {
                 costs();
             } else if (dice == 99) {
                 readSheet();
+            } else if (dice == 98) {
+                ruin();
             } else {
                 List<String> some = below(3) == 0 ? names : focus;
                 String name = some.get(below(some.size()));
@@ -334,6 +350,86 @@ public final class MirrorTests {
         look();
         if (log.size() > CALLS) {
             throw new IllegalStateException("a run of " + log.size() + " calls");
+        }
+    }
+
+    /** Few coins and small RENTS, so that PLANS are often forced and often level. */
+    private void runPlans() throws ReflectiveOperationException {
+        int towns = 1 + below(8);
+        for (int i = 0; i < towns; i++) {
+            call("town");
+            call("rent", i, below(below(2) == 0 ? 4 : 40));
+        }
+        call("person", 1, 0, 0, 0);
+        call("pay", 0, 1000 - below(60));
+        call("own", below(towns), below(3) - 1);
+        for (int round = 0; round < 12; round++) {
+            int n = 1 + below(round < 11 ? 5 : 7);
+            int most = 1 + below(250);
+            call("sheet", 0, 16, n);
+            for (int i = 0; i < n; i++) {
+                call("put", 0, i, below(most));
+            }
+            for (int what = -1; what < n; what++) {
+                call("plan", 0, what);
+            }
+            call("rent", below(towns), below(40));
+        }
+    }
+
+    /** Many SEATED, with PRICES and WEIGHTS that are often level. */
+    private void runCouncil() throws ReflectiveOperationException {
+        call("town");
+        int persons = 3 + below(8);
+        for (int i = 0; i < persons; i++) {
+            call("person", below(2), -below(9000), 0, 0);
+            call("seat", i, true);
+        }
+        for (int round = 0; round < 40; round++) {
+            call("price", below(persons), 1 + below(6));
+            if (below(3) == 0) {
+                call("power", below(6), below(persons), 1);
+            }
+            if (below(3) == 0) {
+                call("promise", below(persons), below(2), mirror.realm.day + below(9), below(3) != 0);
+            }
+            if (below(20) == 0) {
+                feedText();
+                call("law", 0, 0);
+            }
+            for (int what = 0; what < 2; what++) {
+                call("cause", what, 0);
+                call("buying", 0, what);
+            }
+        }
+    }
+
+    /** LAWS of AGE and STAYS whose worth turns on some day, and the days on which it does. */
+    private void runAges() throws ReflectiveOperationException {
+        call("town");
+        call("person", 1, -below(2000), 0, 0);
+        call("person", 0, -below(9000), 0, 0);
+        call("power", below(6), below(3) - 1, 1);
+        for (int round = 0; round < 11; round++) {
+            int years = below(8);
+            int day = below(2001);
+            String[] texts = {"a>" + years, "a=" + years, "d=" + day, "a+" + years, "0", "k", "c=" + below(3),
+                "d>" + day + "&a>" + years, "(a-" + years + "=0)+(d>" + day + ")"};
+            String text = texts[below(texts.length)];
+            for (int i = 0; i < text.length(); i++) {
+                call("feed", (long) text.charAt(i), 1);
+            }
+            call("law", 3 + below(2), below(3) == 0 ? 2000 - below(3) : below(3) == 0 ? 0 : below(2001));
+            call("age");
+            call("after", 0);
+            if (below(4) == 0) {
+                call("strike", below(mirror.realm.laws.size()));
+            }
+            if (below(2) == 0) {
+                call("days", 1 + below(180));
+            }
+            call("age");
+            call("after", 0);
         }
     }
 
@@ -359,12 +455,15 @@ public final class MirrorTests {
         for (long seed = first; seed < first + runs; seed++) {
             try {
                 new MirrorTests(seed).run();
+                new MirrorTests(seed).runPlans();
+                new MirrorTests(seed).runCouncil();
+                new MirrorTests(seed).runAges();
             } catch (IllegalStateException e) {
                 System.out.println("seed " + seed + "\n" + e.getMessage());
                 System.exit(1);
             }
         }
-        System.out.println(runs + " runs are alike");
+        System.out.println(4 * runs + " runs are alike");
         if (!areAllSeen()) {
             System.exit(1);
         }

@@ -266,6 +266,13 @@ public final class PromiseTests {
         x.lend(1, 2, 99);
         due("POWERS held, LENT ones too", x.about(0, 5), 2);
         due("POWERS held by who borrows", x.about(2, 5), 0);
+        SealCouncil z = row(1);
+        z.town();
+        z.person(1, 0, 0, 1);
+        for (int i = 0; i < 4; i++) {
+            z.days(400);
+        }
+        due("KNOWN without a way, late", z.about(0, 4), -1);
     }
 
     private static void p9() {
@@ -294,6 +301,7 @@ public final class PromiseTests {
         due("men(0, 10)", x.men(0, 10), BEYOND);
         due("men(0, 9)", x.men(0, 9), 999);
         due("men(0, 0)", x.men(0, 0), 999);
+        due("men(0, -100)", x.men(0, -100), BEYOND);
         due("men(0, -99)", x.men(0, -99), 900);
         x.die(1);
         due("men(1, -1) of one dead", x.men(1, -1), STATE);
@@ -1032,6 +1040,8 @@ public final class PromiseTests {
         due("BROKEN", x.cause(1, 3), 2);
         due("BROKEN", x.cause(0, 3), 1);
         due("none BROKEN", x.cause(2, 3), -1);
+        x.promise(1, 5, 9, true);
+        due("the last CAUSE", x.cause(5, 0), 3);
         SealCouncil z = row(2);
         z.person(1, 0, 0, 1);
         z.person(1, -9000, 0, 0);
@@ -1051,6 +1061,20 @@ public final class PromiseTests {
         due("price(0, 999)", x.price(0, 999), 1);
         due("price(0, 5)", x.price(0, 5), 999);
         due("about(0, 9)", x.about(0, 9), 5);
+    }
+
+    /** SEATED PERSONS with so many OFFICES and such PRICES, of which the first has promised for CAUSE 0. */
+    private static SealCouncil weighted(int[] offices, int[] prices) {
+        SealCouncil x = court(offices.length);
+        for (int i = 0; i < offices.length; i++) {
+            x.seat(i, true);
+            x.price(i, prices[i]);
+            for (int j = 0; j < offices[i]; j++) {
+                x.power(1, i, 0);
+            }
+        }
+        x.promise(0, 0, 9, true);
+        return x;
     }
 
     private static void p39() {
@@ -1082,8 +1106,17 @@ public final class PromiseTests {
         x.promise(2, 0, 9, true);
         due("it is CARRIED", x.buying(0, 0), 0);
         due("by none more", x.buying(0, 1), 0);
+        due("the last CAUSE", x.buying(5, 1), 34);
         law(x, 0, 0, "0");
         due("no set is enough", x.buying(0, 1), NONE);
+        // WEIGHTS 1, 1, 2, 2, 3 of 9, the first having promised: {1, 4} and {2, 3} are level but for bits.
+        SealCouncil z = weighted(new int[] {0, 0, 1, 1, 2}, new int[] {1, 1, 3, 3, 5});
+        due("PRICES", z.buying(0, 0), 6);
+        due("not {1, 4}, which is more as bits", z.buying(0, 1), 12);
+        // WEIGHTS 1, 1, 1, 2 of 5: {3} and {1, 2} have one PRICE.
+        SealCouncil y = weighted(new int[] {0, 0, 0, 1}, new int[] {1, 1, 1, 2});
+        due("PRICES", y.buying(0, 0), 2);
+        due("the fewest, though more as bits", y.buying(0, 1), 8);
     }
 
     private static void p40() {
@@ -1168,6 +1201,13 @@ public final class PromiseTests {
         due("STRUCK", x.age(), 2000);
         law(x, 3, 6, "0");
         due("ahead of these none is for the DAY", x.age(), NONE);
+        SealCouncil y = row(1);
+        y.person(1, -100, 0, 0);
+        law(y, 3, 0, "a=3");
+        due("a year behind its birth", y.age(), 980);
+        law(y, 3, 0, "0");
+        law(y, 3, 2000, "1");
+        due("a LAW for the last day", y.age(), 2000);
         SealCouncil z = court(1);
         law(z, 3, 9, "0");
         due("no LAW for the DAY", z.age(), 0);
@@ -1249,6 +1289,21 @@ public final class PromiseTests {
         sheetOf(z, 1, 1061, 0);
         due("the lesser TOWN", z.plan(1, 0), 0);
         due("TOWNS 0 .. 5 alone", z.plan(1, -1), 1000 + 60 + 40 - 1061 + 50 + 400);
+        // Each COST is all that there is if one more TOWN is pledged: all six are, by numbers.
+        sheetOf(z, 2, 1100, 90, 80, 70, 60, 50);
+        due("all are pledged", z.plan(2, -1), 0);
+        for (int i = 0; i < 6; i++) {
+            due("by numbers", z.plan(2, i), i);
+        }
+        // A TOWN that is enough for both QUARTERS leaves more than two that are pledged one by one.
+        SealCouncil y = row(3);
+        y.rent(0, 20);
+        y.rent(1, 30);
+        y.rent(2, 20);
+        sheetOf(y, 0, 1110, 120);
+        due("it leaves more", y.plan(0, -1), 1000 + 70 + 120 - 1110 + 40 - 120 + 320);
+        due("the TOWN that is enough", y.plan(0, 0), 1);
+        due("none then", y.plan(0, 1), -1);
         SealCouncil f = forfeit();
         f.town();
         f.rent(0, 50);
