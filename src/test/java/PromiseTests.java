@@ -401,6 +401,12 @@ public final class PromiseTests {
         due("lend(0, 2, 5)", x.lend(0, 2, 5), STATE);
         x.days(1);
         due("held(0, 2)", x.held(0, 2), 0);
+        x.lend(0, 1, 8);
+        x.days(2);
+        due("with that day", x.held(0, 2), 1);
+        x.days(1);
+        due("its day is past", x.held(0, 2), 0);
+        due("its day is past", x.held(0, 4), -1);
         due("lend(0, 2, 2000)", x.lend(0, 2, 2000), 1);
     }
 
