@@ -1012,6 +1012,7 @@ public final class PromiseTests {
         due("its day is past", x.breaks(1), STATE);
         due("its day is that", x.breaks(0), 1);
         due("it is BROKEN", x.breaks(0), STATE);
+        due("the first of all", x.cause(0, 3), 0);
         x.promise(0, 2, 9, true);
         x.seat(0, false);
         x.seat(0, true);
@@ -1161,6 +1162,13 @@ public final class PromiseTests {
         x.guard(1, 6);
         due("6 at most there", x.night(7, 2, 1, 0), 1);
         due("GUARDS stay after all", x.guard(1, 0), 6);
+        // A GUARD of GATE 4 is at GATE 2 by the third HOUR.
+        SealCouncil z = new SealCouncil();
+        z.guard(4, 1);
+        due("from GATE 4 to GATE 2", z.night(1, 3, 2, 0), 0);
+        due("from GATE 4 to GATE 2", z.night(2, 3, 2, 0), 1);
+        z.guard(4, 0);
+        due("none is there to come", z.night(1, 3, 2, 0), 1);
     }
 
     private static void p42() {
