@@ -5,7 +5,6 @@ import java.nio.charset.StandardCharsets;
 import java.nio.file.Files;
 import java.nio.file.Path;
 import java.util.ArrayList;
-import java.util.Arrays;
 import java.util.HashMap;
 import java.util.LinkedHashMap;
 import java.util.List;
@@ -377,6 +376,10 @@ public final class BoundaryTests {
                 .refuses("person(1, -20, 2, 0)", BEYOND).refuses("person(1, -15, 102, 0)", BEYOND)
                 .would("person(1, -9, 100, 0)", 2).would("person(1, -19, 2, 0)", 2)
                 .would("person(1, -9, 102, 0)", 2).would("person(1, -20000, 0, 0)", 2);
+        sentence("PERSON 0 is THE CHILD.");
+        row(1, 1).does("person(0, -9, 0, 0)", "person(0, -8, 0, 0)", "person(0, -7, 2, 0)").answers("about(0, 8)", 0)
+                .answers("about(1, 8)", 99).answers("about(2, 8)", 99).answers("age()", 0).law(3, 0, "1-s-b")
+                .answers("age()", 0).refuses("heir(0)", NONE);
         sentence("GOING takes FAR days; it is there on the day on which it comes");
         row(2, 9).does("person(1, 0, 0, 0)").answers("go(0, 0)", 0).answers("about(0, 0)", 0)
                 .answers("go(0, 1)", 9).answers("about(0, 0)", -1).does("days(8)").answers("about(0, 0)", -1)
@@ -420,8 +423,8 @@ public final class BoundaryTests {
 
     private static void termOfPowers() {
         section("Term 2");
-        sentence("POWERS 0, 1, .. (at most 20) are of KINDS: 0 POWER, 1 OFFICE under POWER, 2 SEAL under POWER, "
-                + "3 GUARD under OFFICE, 4 MARCH under GUARD, 5 CLAIM under POWER.");
+        sentence("POWERS 0, 1, .. (at most 20) are of KINDS: 0 POWER, 1 OFFICE under POWER, 2 SEAL under POWER, 3 "
+                + "GUARD under OFFICE, 4 MARCH under GUARD, 5 CLAIM under POWER.");
         Scene x = court(1);
         for (int i = 0; i < 20; i++) {
             x.answers("power(" + i % 6 + ", 0, 1)", i);
@@ -440,8 +443,8 @@ public final class BoundaryTests {
         sentence("WHO HAS it: to whom it is LENT, else its HOLDER.");
         court(2).does("power(2, -1, 1)").answers("held(0, 2)", -1).does("give(0, 0)").answers("held(0, 2)", 0)
                 .does("lend(0, 1, 2000)").answers("held(0, 2)", 1).answers("held(0, 1)", 0);
-        sentence("A COPY of a SEAL is a SEAL of the same MARK (a first one's MARK is its number), held by who has "
-                + "the SEAL.");
+        sentence("A COPY of a SEAL is a SEAL of the same MARK (a first one's MARK is its number), held by who has the "
+                + "SEAL.");
         court(2).times(18, "power(0, 0, 5)").does("power(2, 0, 5)", "lend(18, 1, 9)").answers("held(18, 3)", 18)
                 .answers("copy(18)", 19).answers("held(19, 3)", 18).answers("held(19, 1)", 1)
                 .answers("held(19, 0)", 2).does("draw(0, 0, 0)", "press(0, 19)").answers("letter(0, 3)", 1 << 18);
@@ -631,6 +634,14 @@ public final class BoundaryTests {
                 .does("go(1, 1)").refuses("open(0)", STATE).does("days(3)").refuses("open(0)", STATE)
                 .does("go(1, 2)", "days(2)").refuses("open(0)", STATE).does("days(1)").answers("open(0)", 1)
                 .answers("letter(0, 6)", 12);
+        sentence("it is GOOD if the law GOOD in force on that DAY as KNOWN to it then isn't 0, of it and the LETTER");
+        Scene afar = row(2, 4).does("person(1, 0, 0, 0)", "person(0, 0, 0, 1)", "draw(0, 3, 8)", "send(0, 1)",
+                "days(5)");
+        afar.law(1, 0, "0").does("days(3)").would("open(0)", 1).does("days(1)").would("open(0)", 0)
+                .does("strike(0)", "days(3)").would("open(0)", 0).does("days(1)").would("open(0)", 1)
+                .law(1, 20, "s").does("days(6)").would("open(0)", 1).does("days(1)").would("open(0)", 0)
+                .law(1, 0, "w-8|y|o-3").does("days(4)").would("open(0)", 0).does("strike(2)").law(1, 0, "w-7")
+                .does("days(3)").would("open(0)", 0).does("days(1)").answers("open(0)", 1);
         sentence("(that is settled then)");
         court(1).does("draw(0, 4, 0)", "send(0, 0)", "open(0)").law(1, 0, "0").answers("letter(0, 7)", 1)
                 .does("draw(0, 4, 0)", "send(1, 0)", "open(1)", "strike(0)").answers("letter(1, 7)", 0)
@@ -683,8 +694,8 @@ public final class BoundaryTests {
                 .does("days(1)").answers("count(9)", 1002).times(4, "days(400)").answers("count(9)", 1019)
                 .does("days(199)").answers("count(9)", 1021).does("days(1)").answers("count(9)", 1022)
                 .does("days(20)").answers("count(9)", 1022);
-        sentence("(0 .. 999; 0 at first) comes, by numbers, to its OWNER (a PERSON; -1, as at first, THE CHEST; of one "
-                + "that is FORFEIT to a banker, whose COIN is told nowhere); an OWNER that is dead: THE CHEST");
+        sentence("(0 .. 999; 0 at first) comes, by numbers, to its OWNER (a PERSON; -1, as at first, THE CHEST; of "
+                + "one that is FORFEIT to a banker, whose COIN is told nowhere); an OWNER that is dead: THE CHEST");
         row(10, 1).times(2, "person(1, 0, 0, 0)").does("rent(0, 999)", "rent(9, 998)", "rent(1, 1)", "own(9, 1)",
                 "days(90)").answers("count(9)", 2000).answers("about(1, 1)", 998).answers("about(0, 1)", 0)
                 .does("die(1)", "days(90)").answers("count(9)", 3998 + 998).answers("about(1, 1)", 0);
@@ -763,8 +774,8 @@ public final class BoundaryTests {
         }
         x.refuses("seat(10, true)", FULL).answers("count(11)", 9).does("die(9)").answers("count(11)", 8)
                 .answers("about(9, 7)", 0).answers("seat(10, true)", 9).refuses("seat(0, true)", FULL);
-        sentence("PROMISES, at most 30: a PERSON that is SEATED promises to vote for a CAUSE (0 .. 5), or against, till "
-                + "a day (with it)");
+        sentence("PROMISES, at most 30: a PERSON that is SEATED promises to vote for a CAUSE (0 .. 5), or against, "
+                + "till a day (with it)");
         Scene y = court(1).does("seat(0, true)");
         for (int i = 0; i < 30; i++) {
             y.answers("promise(0, " + i % 6 + ", 0, true)", i);
@@ -791,7 +802,8 @@ public final class BoundaryTests {
             w.does("power(" + kind + ", 1, 0)", "power(" + kind + ", 2, 0)", "power(" + kind + ", -1, 0)")
                     .answers("cause(0, 1)", weights[kind]);
         }
-        sentence("0 if the law RULES in force on the DAY, as KNOWN to who is SEATED with the least number, is 0 of it");
+        sentence("0 if the law RULES in force on the DAY, as KNOWN to who is SEATED with the least number, is 0 of "
+                + "it");
         row(3, 2).does("person(1, 0, 0, 2)", "person(1, -720, 0, 1)", "person(1, -720, 0, 0)", "power(1, 2, 0)",
                 "seat(1, true)", "seat(2, true)").law(0, 5, "a-2").answers("cause(0, 1)", 3).does("days(4)")
                 .answers("cause(0, 1)", 3).does("days(1)").answers("cause(0, 1)", 0).does("seat(0, true)")
@@ -817,8 +829,8 @@ public final class BoundaryTests {
                 .does("promise(1, 0, 9, true)").answers("buying(0, 0)", 4).answers("buying(0, 1)", 4)
                 .does("promise(2, 0, 9, false)").answers("buying(0, 0)", 4).answers("buying(0, 1)", 4)
                 .does("promise(1, 0, 9, false)").answers("buying(0, 0)", 6).answers("buying(1, 0)", 6);
-        sentence("with the least PRICES together with which it is CARRIED; of several that with the fewest PERSONS, then "
-                + "the least as bits");
+        sentence("with the least PRICES together with which it is CARRIED; of several that with the fewest PERSONS, "
+                + "then the least as bits");
         Scene nine = court(10);
         for (int i = 1; i <= 9; i++) {
             nine.does("seat(" + i + ", true)", "price(" + i + ", 999)");
@@ -858,8 +870,8 @@ public final class BoundaryTests {
                 .answers("night(7, 2, 1, 0)", 1).answers("night(7, 3, 2, 0)", 1).answers("night(7, 3, 3, 0)", 0)
                 .answers("night(20, 3, 4, 0)", 0).answers("night(20, 2, 2, 0)", 0).answers("night(20, 1, 1, 0)", 0);
         guards(1, 6, 0, 0, 0).answers("night(7, 2, 1, 0)", 0).answers("night(8, 2, 1, 0)", 1);
-        sentence("then one GUARD goes from a GATE that isn't taken to one beside it that isn't either (6 at most there), "
-                + "or none goes");
+        sentence("then one GUARD goes from a GATE that isn't taken to one beside it that isn't either (6 at most "
+                + "there), or none goes");
         guards(0, 5, 1, 0, 0).answers("night(6, 2, 1, 0)", 0).answers("night(7, 2, 1, 0)", 1);
         guards(0, 6, 6, 0, 0).answers("night(7, 2, 1, 0)", 1).answers("night(6, 2, 1, 0)", 0);
         guards(0, 5, 0, 6, 0).answers("night(6, 2, 1, 0)", 1).answers("night(5, 2, 1, 0)", 0);
@@ -876,8 +888,9 @@ public final class BoundaryTests {
 
     private static void termOfFollowing() {
         section("Term 8");
-        sentence("living PERSONS but THE CHILD of whom the law FOLLOWS in force on the DAY as KNOWN at the COURT (the DAY) "
-                + "isn't 0, and that are of its blood (b isn't 99): by b, then by the day of birth, then by numbers");
+        sentence("living PERSONS but THE CHILD of whom the law FOLLOWS in force on the DAY as KNOWN at the COURT (the "
+                + "DAY) isn't 0, and that are of its blood (b isn't 99): by b, then by the day of birth, then by "
+                + "numbers");
         Scene x = row(2, 9).does("person(1, -9000, 0, 0)", "person(0, -9000, 0, 0)", "person(1, -3000, 102, 0)",
                 "person(0, -3001, 100, 1)", "person(1, -3000, 100, 0)", "person(1, -1000, 304, 0)",
                 "person(1, -9001, 0, 0)");
@@ -887,8 +900,8 @@ public final class BoundaryTests {
                 .answers("heir(0)", 3).answers("heir(1)", 1).refuses("heir(2)", NONE)
                 .law(2, 0, "0-1").answers("heir(3)", 5).law(2, 0, "0").refuses("heir(0)", NONE)
                 .does("strike(2)").answers("heir(3)", 5);
-        sentence("the first day, from the DAY on, on which the law AGE in force then, as KNOWN at the COURT on the DAY, "
-                + "isn't 0 of THE CHILD (a, d as of that day; all else as now)");
+        sentence("the first day, from the DAY on, on which the law AGE in force then, as KNOWN at the COURT on the "
+                + "DAY, isn't 0 of THE CHILD (a, d as of that day; all else as now)");
         row(2, 1).does("person(1, 0, 0, 1)").law(3, 0, "a").answers("age()", 360).does("days(360)")
                 .answers("age()", 360).does("days(1)").answers("age()", 361).law(3, 0, "a>4").answers("age()", 1800)
                 .law(3, 0, "a>5").refuses("age()", NONE).law(3, 0, "d>1999").answers("age()", 2000)
@@ -948,8 +961,8 @@ public final class BoundaryTests {
 
     private static void termOfPlans() {
         section("Term 9");
-        sentence("in each first RENTS of TOWNS 0 .. 5 that are not pledged by THE PLAN, nor FORFEIT, and whose OWNER is "
-                + "THE CHEST, come in");
+        sentence("in each first RENTS of TOWNS 0 .. 5 that are not pledged by THE PLAN, nor FORFEIT, and whose OWNER "
+                + "is THE CHEST, come in");
         leaves(costs(rented(1, 2, 4, 8, 16, 32, 64), 0, 0), 1000 + 63 + 8 * 63, -1);
         leaves(costs(rented(1, 2, 4, 8, 16, 32).does("own(5, 0)", "own(0, 0)"), 0, 0, 0), 1000 + 60 + 240, -1, -1);
         leaves(costs(rented(7), 0, 1007, 7), 56, -1, -1);
@@ -963,14 +976,20 @@ public final class BoundaryTests {
         costs(rented(10, 20), 0, 1030 + 81).refuses("plan(0, -1)", STATE);
         leaves(costs(rented(10, 20), 0, 1110, 10 + 40), 0, 1, 0);
         costs(rented(10, 20), 0, 1110, 51).refuses("plan(0, -1)", STATE);
-        sentence("of several that in which at the first QUARTER at which they are unlike none is pledged, else the lesser "
-                + "TOWN");
+        sentence("of several that in which at the first QUARTER at which they are unlike none is pledged, else the "
+                + "lesser TOWN");
         leaves(costs(rented(0, 0, 0), 0, 0, 0, 1000), 0, -1, -1, -1);
         leaves(costs(rented(5, 5, 5), 0, 1016), 1015 + 20 - 1016 + 80, 0);
         leaves(costs(rented(5, 5, 5), 0, 1035, 30), 40, 0, 1);
         leaves(costs(rented(5, 5, 5, 5, 5, 5), 0, 1050, 45, 40, 35, 30, 25, 0, 0), 0, 0, 1, 2, 3, 4, 5, -1, -1);
         leaves(costs(rented(3, 3), 0, 0, 1012), 1012 - 1012 + 48, -1, -1);
         leaves(costs(rented(3, 3), 0, 0, 1013), 1012 + 12 - 1013 + 24, -1, 0);
+        sentence("that which leaves the most COIN and 8 times the RENT of each of these TOWNS that isn't pledged");
+        // TOWN 1 alone is enough for both; TOWNS 0 and 2, one by one, would leave 80 less.
+        leaves(costs(rented(20, 30, 20), 0, 1110, 120), 1000 + 70 + 120 - 1110 + 40 - 120 + 320, 1, -1);
+        leaves(costs(rented(10, 11), 0, 1061), 1021 + 40 - 1061 + 88, 0);
+        leaves(costs(rented(10, 11), 0, 1062), 1021 + 44 - 1062 + 80, 1);
+        leaves(costs(rented(11, 10), 0, 1061), 1021 + 40 - 1061 + 88, 1);
         sentence("A PLAN for n (1 .. 8) QUARTERS");
         leaves(costs(rented(9), 0, 0, 0, 0, 0, 0, 0, 0, 0), 1000 + 72 + 72, -1, -1, -1, -1, -1, -1, -1, -1);
         leaves(costs(rented(9), 0, 0), 1009 + 72, -1);
@@ -1000,8 +1019,17 @@ public final class BoundaryTests {
                 .answers("voice(4, 0, -2147483648)", MIN + 4).answers("voice(4, 0, 2147483647)", MIN + 3)
                 .answers("voice(3, 1, 2147483647)", MIN + 101).answers("voice(5, 1, 1073741675)", MAX)
                 .answers("voice(5, 1, 1073741676)", MIN + 1);
-        sentence("THE TRACE: the numbers of BODIES of the latest voice(), as they began (what stands left is worked out "
-                + "first), the first 40.");
+        sentence("act(..) is the BODY of its KIND, or of the next KIND above that has one; super.act(..) that from "
+                + "the KIND above the BODY's on.");
+        int[][] said = {{104, 208, 5, 208 ^ 5}, {105, 210, 4, 212 ^ 5}, {104, 208, 9, 208 ^ 9}, {107, 107, 2, 108 ^ 3},
+            {9, 9, 1, 1 - (10 ^ 2)}, {104, 307, 0, 307}};
+        for (int kind = 0; kind < 6; kind++) {
+            for (int act = 0; act < 4; act++) {
+                x.answers("voice(" + kind + ", " + act + ", 5)", said[kind][act]);
+            }
+        }
+        sentence("THE TRACE: the numbers of BODIES of the latest voice(), as they began (what stands left is worked "
+                + "out first), the first 40.");
         int[][] bodies = {{51, 12, 21, 13, 40, 11, 50, 20, 10, 50, 20, 10, 12}, {21, 13, 40, 11, 20, 10, 20, 10, 12},
             {40, 11, 50, 20, 10, 50, 20, 10}, {13, 11, 10, 30, 12}, {13, 60, 11, 10, 12}, {21, 13, 11, 20, 10, 12},
             {10}, {11, 10}, {12}, {30, 12}, {50, 20, 10}, {60, 11, 10}};
@@ -1141,8 +1169,8 @@ public final class BoundaryTests {
 
     private static void aboutPersons() {
         section("Promise 8");
-        sentence("0 TOWN (-1: on the road), 1 COIN, 2 MEN, 3 AGE, 4 KNOWN, 5 how many POWERS it holds, 6 1 it is dead, "
-                + "else 0, 7 1 it is SEATED, else 0, 8 steps to THE CHILD (99), 9 its PRICE. BEYOND.");
+        sentence("0 TOWN (-1: on the road), 1 COIN, 2 MEN, 3 AGE, 4 KNOWN, 5 how many POWERS it holds, 6 1 it is "
+                + "dead, else 0, 7 1 it is SEATED, else 0, 8 steps to THE CHILD (99), 9 its PRICE. BEYOND.");
         Scene x = row(10, 1).does("person(1, -9000, 0, 0)", "person(0, -8640, 0, 9)").times(20, "power(1, 1, 0)")
                 .does("pay(1, 7)", "men(1, 8)", "seat(1, true)", "price(1, 999)", "days(10)");
         x.beyond("about(#, 0)", -1, 2).beyond("about(0, #)", -1, 10).refuses("about(2, 10)", BEYOND);
@@ -1169,8 +1197,8 @@ public final class BoundaryTests {
                 .refuses("pay(1, 0)", BEYOND).refuses("pay(1, 10000)", BEYOND).answers("pay(0, 1000)", 0)
                 .refuses("pay(0, 1)", NONE).refuses("pay(0, 0)", BEYOND).refuses("pay(1, 1)", STATE);
         section("Promise 10");
-        sentence("BEYOND: n isn't -99 .. 99, or they would be below 0 or above 999. STATE: it is dead (ahead of that of "
-                + "MEN).");
+        sentence("BEYOND: n isn't -99 .. 99, or they would be below 0 or above 999. STATE: it is dead (ahead of that "
+                + "of MEN).");
         Scene x = court(3).does("die(1)").beyond("men(0, #)", -100, 100).beyond("men(#, 0)", -1, 3)
                 .refuses("men(0, -1)", BEYOND).refuses("men(0, -99)", BEYOND).would("men(0, 0)", 0)
                 .answers("men(0, 98)", 98).refuses("men(0, -99)", BEYOND).would("men(0, -98)", 0)
@@ -1216,8 +1244,8 @@ public final class BoundaryTests {
         }
         y.beyond("as(#, 0)", -1, 6).beyond("as(0, #)", -1, 6).refuses("as(6, 6)", BEYOND);
         section("Promise 13");
-        sentence("Of a POWER: 0 KIND, 1 its HOLDER (-1), 2 WHO HAS it (-1), 3 its MARK (of others than SEALS -1), 4 the "
-                + "day till which it is LENT (-1). BEYOND.");
+        sentence("Of a POWER: 0 KIND, 1 its HOLDER (-1), 2 WHO HAS it (-1), 3 its MARK (of others than SEALS -1), 4 "
+                + "the day till which it is LENT (-1). BEYOND.");
         y.beyond("held(#, 0)", -1, 6).beyond("held(0, #)", -1, 5).refuses("held(6, 5)", BEYOND);
         for (int i = 0; i < 6; i++) {
             y.answers("held(" + i + ", 0)", i).answers("held(" + i + ", 3)", i == 2 ? 2 : -1)
@@ -1230,8 +1258,8 @@ public final class BoundaryTests {
 
     private static void givingAndLending() {
         section("Promise 14");
-        sentence("A PERSON (-1: nobody) is the HOLDER of a POWER: who was (-1). BEYOND: also one that is dead. STATE: it "
-                + "is LENT.");
+        sentence("A PERSON (-1: nobody) is the HOLDER of a POWER: who was (-1). BEYOND: also one that is dead. STATE: "
+                + "it is LENT.");
         court(4).does("power(2, 0, 0)", "power(1, -1, 0)", "die(3)").beyond("give(#, 0)", -1, 2)
                 .beyond("give(0, #)", -2, 3, 4).answers("give(1, 2)", -1).answers("give(1, -1)", 2)
                 .answers("give(1, -1)", -1).answers("give(0, 0)", 0).does("days(5)", "lend(0, 1, 6)")
@@ -1240,8 +1268,8 @@ public final class BoundaryTests {
                 .does("days(1)").refuses("give(0, 2)", STATE).does("days(1)").answers("give(0, 2)", 0)
                 .answers("held(0, 2)", 2);
         section("Promise 15");
-        sentence("BEYOND: also one that is dead, a day ahead of the DAY. KIND: it is no SEAL. STATE: it has no HOLDER, is "
-                + "LENT, or that is its HOLDER.");
+        sentence("BEYOND: also one that is dead, a day ahead of the DAY. KIND: it is no SEAL. STATE: it has no "
+                + "HOLDER, is LENT, or that is its HOLDER.");
         Scene x = court(4).does("die(3)", "days(5)");
         for (int kind = 0; kind < 6; kind++) {
             x.does("power(" + kind + ", 0, 0)");
@@ -1282,8 +1310,8 @@ public final class BoundaryTests {
 
     private static void tapeAndLaws() {
         section("Promise 17");
-        sentence("The n lowest bytes (1 .. 8) of a word, the lowest first, come to THE TAPE: how many there are. BEYOND. "
-                + "FULL.");
+        sentence("The n lowest bytes (1 .. 8) of a word, the lowest first, come to THE TAPE: how many there are. "
+                + "BEYOND. FULL.");
         new Scene().beyond("feed(97, #)", -1, 0, 9).would("feed(97, 1)", 1).would("feed(0, 8)", 8)
                 .would("feed(-1, 8)", 8).times(6, "feed(0, 8)").does("feed(0, 5)").refuses("feed(0, 8)", FULL)
                 .would("feed(0, 7)", 60).does("feed(0, 6)").refuses("feed(0, 2)", FULL).refuses("feed(0, 9)", BEYOND)
@@ -1316,8 +1344,8 @@ public final class BoundaryTests {
                 .refuses("strike(1)", STATE).answers("force(1, 5, 2)", 1).answers("force(1, 5, 3)", 0)
                 .does("days(1)").refuses("strike(1)", STATE).answers("force(1, 5, 3)", 0).answers("strike(0)", 1);
         section("Promise 20");
-        sentence("The LAW of a USE in force on a day (0 .. 2000) AS KNOWN on day k (-1 .. 2000). BEYOND. NONE: there is "
-                + "none.");
+        sentence("The LAW of a USE in force on a day (0 .. 2000) AS KNOWN on day k (-1 .. 2000). BEYOND. NONE: there "
+                + "is none.");
         new Scene().beyond("force(0, #, 0)", -1, 2001).law(4, 0, "1").law(0, 2000, "1")
                 .beyond("force(#, 0, 0)", -1, 5).beyond("force(4, #, 0)", -1, 2001)
                 .beyond("force(4, 0, #)", -2, 2001).answers("force(4, 0, 0)", 0).answers("force(4, 2000, 2000)", 0)
@@ -1452,9 +1480,9 @@ public final class BoundaryTests {
 
     private static void aboutLetters() {
         section("Promise 27");
-        sentence("4 the PERSON to which it was SENT (-1), 5 the day on which it is there (-1), 6 the DAY on which it was "
-                + "OPENED (-1), 7 1 it is GOOD, 0 it isn't (-1 ahead), 8 1 it was OBEYED, else 0, 9 COULD, as bits. "
-                + "BEYOND.");
+        sentence("4 the PERSON to which it was SENT (-1), 5 the day on which it is there (-1), 6 the DAY on which it "
+                + "was OPENED (-1), 7 1 it is GOOD, 0 it isn't (-1 ahead), 8 1 it was OBEYED, else 0, 9 COULD, as "
+                + "bits. BEYOND.");
         Scene x = row(2, 2).does("person(1, 0, 0, 0)", "person(1, 0, 0, 1)", "power(1, 0, 0)", "power(2, 0, 0)",
                 "draw(0, 4, 999)").beyond("letter(#, 0)", -1, 1).beyond("letter(0, #)", -1, 10)
                 .refuses("letter(1, 10)", BEYOND);
@@ -1498,8 +1526,8 @@ public final class BoundaryTests {
 
     private static void rentsOfSheets() {
         section("Promise 31");
-        sentence("BEYOND: no such SHEET, bits. NONE: the SHEET is missing. KIND: it is of other bits. STATE: it has more "
-                + "numbers than there are TOWNS. BEYOND: a number isn't -1 .. 999.");
+        sentence("BEYOND: no such SHEET, bits. NONE: the SHEET is missing. KIND: it is of other bits. STATE: it has "
+                + "more numbers than there are TOWNS. BEYOND: a number isn't -1 .. 999.");
         Scene x = row(2, 1).beyond("rents(#, 8)", -1, 4)
                 .beyond("rents(0, #)", -8, -1, 1, 4, 7, 9, 15, 17, 24, 31, 33, 64).refuses("rents(4, 9)", BEYOND)
                 .refuses("rents(0, 8)", NONE).refuses("rents(3, 32)", NONE);
@@ -1526,7 +1554,8 @@ public final class BoundaryTests {
         x.does("sheet(1, 32, 2)", "put(1, 0, 2147483647)").refuses("rents(1, 32)", BEYOND)
                 .does("put(1, 0, -2147483648)").refuses("rents(1, 32)", BEYOND).does("put(1, 0, 65536)")
                 .refuses("rents(1, 32)", BEYOND);
-        new Scene().does("sheet(0, 8, 0)").answers("rents(0, 8)", 0).does("sheet(0, 8, 1)").refuses("rents(0, 8)", STATE);
+        new Scene().does("sheet(0, 8, 0)").answers("rents(0, 8)", 0).does("sheet(0, 8, 1)")
+                .refuses("rents(0, 8)", STATE);
         Scene ten = row(10, 1).does("sheet(2, 8, 10)", "put(2, 9, 127)").answers("rents(2, 8)", 10)
                 .answers("rent(9, 0)", 127).does("sheet(2, 8, 11)").refuses("rents(2, 8)", STATE);
         ten.does("sheet(2, 8, 1)", "put(2, 0, 128)").refuses("rents(2, 8)", BEYOND);
@@ -1549,8 +1578,8 @@ public final class BoundaryTests {
                 .refuses("debt(0, 0, 0)", BEYOND).refuses("debt(0, 1000001, 0)", BEYOND)
                 .refuses("debt(0, 1, 2)", BEYOND);
         section("Promise 33");
-        sentence("Of a DEBT: 0 OWED, 1 how often it was MISSED, 2 1 its pledge is FORFEIT (by whichever DEBT), else 0, 3 "
-                + "how many DEBTS have the same pledge. BEYOND.");
+        sentence("Of a DEBT: 0 OWED, 1 how often it was MISSED, 2 1 its pledge is FORFEIT (by whichever DEBT), else "
+                + "0, 3 how many DEBTS have the same pledge. BEYOND.");
         x.beyond("owed(#, 0)", -1, 6).beyond("owed(0, #)", -1, 4).answers("owed(0, 3)", 2).answers("owed(1, 3)", 2)
                 .answers("owed(5, 3)", 4).answers("owed(0, 0)", 99999).answers("owed(1, 0)", 0);
         indebted(100, 10, 0).does("town()", "debt(0, 9, 0)", "debt(0, 9, 1)", "days(180)").answers("owed(0, 2)", 1)
@@ -1621,10 +1650,11 @@ public final class BoundaryTests {
         section("Promise 40");
         sentence("GUARDS at a GATE: what they were. BEYOND.");
         new Scene().beyond("guard(#, 0)", -1, 5).beyond("guard(0, #)", -1, 7).answers("guard(0, 6)", 0)
-                .answers("guard(0, 0)", 6).answers("guard(4, 6)", 0).answers("guard(4, 0)", 6).answers("guard(0, 0)", 0);
+                .answers("guard(0, 0)", 6).answers("guard(4, 6)", 0).answers("guard(4, 0)", 6)
+                .answers("guard(0, 0)", 0);
         section("Promise 41");
-        sentence("what 1: the least GATE that they may take in the first HOUR and win still; -1: they win by taking none "
-                + "then alone. BEYOND: men, hours (1 .. 3), gate, what. NONE: what 1, they don't win.");
+        sentence("what 1: the least GATE that they may take in the first HOUR and win still; -1: they win by taking "
+                + "none then alone. BEYOND: men, hours (1 .. 3), gate, what. NONE: what 1, they don't win.");
         guards(1).beyond("night(#, 1, 0, 0)", -1, 0, 21).beyond("night(1, #, 0, 0)", -1, 0, 4)
                 .beyond("night(1, 1, #, 0)", -1, 5).beyond("night(1, 1, 0, #)", -1, 2)
                 .refuses("night(1, 1, 0, 1)", NONE).refuses("night(1, 3, 0, 1)", NONE)
@@ -1702,8 +1732,8 @@ public final class BoundaryTests {
 
     private static void sheets() {
         section("Promise 48");
-        sentence("A SHEET has n numbers (0 .. 24), all 0, of so many bits (8, 16, 32; 0: it is missing, n doesn't matter): "
-                + "1. BEYOND. STATE: n is below 0 (ahead of BEYOND of n).");
+        sentence("A SHEET has n numbers (0 .. 24), all 0, of so many bits (8, 16, 32; 0: it is missing, n doesn't "
+                + "matter): 1. BEYOND. STATE: n is below 0 (ahead of BEYOND of n).");
         Scene x = row(1, 1).does("sheet(1, 16, 2)", "put(1, 0, 7)", "put(1, 1, 8)").beyond("sheet(#, 8, 1)", -1, 4)
                 .beyond("sheet(1, #, 1)", -8, -1, 1, 4, 7, 9, 15, 17, 24, 31, 33, 64)
                 .refuses("sheet(1, 8, 25)", BEYOND).refuses("sheet(1, 8, 2147483647)", BEYOND)
@@ -1719,8 +1749,8 @@ public final class BoundaryTests {
         x.answers("sheet(3, 0, 0)", 1).does("sheet(0, 32, 24)").answers("put(0, 23, 1)", 1)
                 .refuses("put(0, 24, 1)", BEYOND).does("sheet(0, 32, 0)").refuses("put(0, 0, 1)", BEYOND);
         section("Promise 49");
-        sentence("Number i of a SHEET becomes v (its lowest bits): 1. BEYOND: no such SHEET. NONE: it is missing. BEYOND: "
-                + "no such number.");
+        sentence("Number i of a SHEET becomes v (its lowest bits): 1. BEYOND: no such SHEET. NONE: it is missing. "
+                + "BEYOND: no such number.");
         Scene y = row(1, 1).beyond("put(#, 0, 0)", -1, 4).refuses("put(0, 0, 0)", NONE).refuses("put(0, -1, 0)", NONE)
                 .refuses("put(0, 24, 0)", NONE).refuses("put(4, -1, 0)", BEYOND).does("sheet(0, 8, 1)")
                 .beyond("put(0, #, 0)", -1, 1, 24).would("put(0, 0, -2147483648)", 1);
@@ -1765,8 +1795,8 @@ public final class BoundaryTests {
 
     private static void moving() {
         section("Promise 50");
-        sentence("as they all were: n. BEYOND: no such SHEET. NONE: one is missing. KIND: they are of unlike bits. BEYOND: "
-                + "n, i, or j is below 0, or they don't stand there.");
+        sentence("as they all were: n. BEYOND: no such SHEET. NONE: one is missing. KIND: they are of unlike bits. "
+                + "BEYOND: n, i, or j is below 0, or they don't stand there.");
         Scene x = row(10, 1);
         numbers(numbers(numbers(x, 0, 8, 1, 2, 3, 4, 5), 1, 8, 6, 7, 8), 2, 16, 9, 9);
         x.beyond("move(#, 0, 1, 0, 1)", -1, 4).beyond("move(0, 0, #, 0, 1)", -1, 4)
@@ -1802,8 +1832,8 @@ public final class BoundaryTests {
 
     private static void images() {
         section("Promise 51");
-        sentence("All (but SHEETS, THE TRACE, what found() tells, and how often this was done) is kept as an IMAGE, in "
-                + "place of one ahead: how often that was done.");
+        sentence("All (but SHEETS, THE TRACE, what found() tells, and how often this was done) is kept as an IMAGE, "
+                + "in place of one ahead: how often that was done.");
         court(1).does("power(0, 0, 0)", "sheet(0, 8, 1)", "voice(0, 0, 0)").answers("image()", 1)
                 .does("sheet(0, 16, 1)", "sheet(1, 8, 1)", "voice(0, 1, 0)").answers("count(16)", BEYOND)
                 .answers("restore()", 0).answers("put(1, 0, 0)", 1).answers("rents(0, 16)", 1).answers("trace(0)", 11)
