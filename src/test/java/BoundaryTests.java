@@ -212,9 +212,9 @@ public final class BoundaryTests {
                 return this;
             }
             if (looks == null) {
-                looks = looksBehind(null, 0);
+                looks = looksBehind(null, null);
             }
-            if (!looks.equals(looksBehind(call(text), -1000000 - finding))) {
+            if (!looks.equals(looksBehind(call(text), call("found(" + (-1000000 - finding) + ")")))) {
                 fail(text + " is refused, but changed something");
             }
             return this;
@@ -229,8 +229,8 @@ public final class BoundaryTests {
             return refuses(pattern.replace("#", String.valueOf(MAX)), BEYOND);
         }
 
-        /** All that can be seen of objects like this one, behind one call more if there is one. */
-        private List<Integer> looksBehind(Call refused, int k) {
+        /** All that can be seen of objects like this one, perhaps behind a refused call, which `found` counts. */
+        private List<Integer> looksBehind(Call refused, Call found) {
             List<Integer> seen = new ArrayList<>();
             for (List<Call> look : LOOKS) {
                 SealCouncil x = again();
@@ -241,8 +241,7 @@ public final class BoundaryTests {
                     throw new IllegalStateException("too many calls");
                 }
                 for (Call call : look) {
-                    int less = refused != null && call.text.equals("found(" + k + ")") ? 1 : 0;
-                    seen.add(call.on(x) - less);
+                    seen.add(call.on(x) - (call == found ? 1 : 0));
                 }
             }
             return seen;
@@ -385,6 +384,9 @@ public final class BoundaryTests {
                 .answers("go(0, 1)", 9).answers("about(0, 0)", -1).does("days(8)").answers("about(0, 0)", -1)
                 .does("road(0, 1, 1)").answers("about(0, 0)", -1).does("days(1)").answers("about(0, 0)", 1)
                 .answers("go(0, 1)", 9).answers("about(0, 0)", 1).answers("go(0, 0)", 10);
+        row(2, 3).does("person(1, 0, 0, 0)", "pay(0, 2)", "men(0, 4)").answers("go(0, 1)", 3).answers("about(0, 1)", 2)
+                .does("days(1)", "pay(0, 6)", "days(1)").answers("about(0, 0)", -1).does("days(1)")
+                .answers("about(0, 0)", 1).answers("about(0, 1)", 8).answers("about(0, 2)", 4);
         sentence("it has COIN and MEN (0 at first)");
         court(1).answers("about(0, 1)", 0).answers("about(0, 2)", 0).answers("count(14)", 0);
         sentence("AGE on a day: days since it was BORN, by 360.");
@@ -407,6 +409,8 @@ public final class BoundaryTests {
                 .does("road(0, 3, 9)").answers("about(2, 4)", 2).does("road(3, 0, 1)").answers("about(2, 4)", 10);
         row(2, 9).does("days(5)", "person(1, 5, 0, 1)").answers("about(0, 4)", -1).does("days(4)")
                 .answers("about(0, 4)", 0);
+        row(1, 1).does("town()", "person(1, 0, 0, 1)").times(5, "days(400)").answers("about(0, 4)", -1)
+                .does("road(0, 1, 9)").answers("about(0, 4)", 1991);
         sentence("on the road, and of one that is dead, as it was when it left, or died");
         row(3, 3).does("person(1, 0, 0, 1)", "person(1, 0, 0, 0)", "days(5)")
                 .answers("go(0, 2)", 8).answers("about(0, 4)", 2).does("days(2)").answers("about(0, 4)", 2)
@@ -532,7 +536,8 @@ public final class BoundaryTests {
         section("Term 3");
         sentence("Ints; | & < = > ! are 1 or 0, what is not 0 being true; all is worked out.");
         String[] rows = {"7 7", "9999 9999", "0000 0", "0001 1", "7|0 1", "0|7 1", "0|0 0", "7|7 1", "0-1|0 1",
-            "0|0-1 1", "7&7 1", "7&0 0", "0&7 0", "0-1&2 1", "1&2&4 1", "1&2&0 0", "0|0|3 1", "!7 0", "!0 1", "!!7 1",
+            "0|0-1 1", "7&7 1", "7&0 0", "0&7 0", "0-1&2 1", "2&0-1 1", "1&2&4 1", "1&2&0 0", "0|0|3 1", "!7 0", "!0 1",
+            "!!7 1",
             "!(0-1) 0", "1<2 1", "2<2 0", "3<2 0", "0-1<0 1", "2=2 1", "2=3 0", "3=2 0", "2>1 1", "2>2 0", "2>3 0",
             "0>0-1 1", "1|1&0 1", "0&1|1 1", "(1|1)&0 0", "5-2-2 1", "5-(2-2) 5", "5-2+2 5", "2+2=4 1", "2=4-2 1",
             "1+(2<3) 2", "!0+3 4", "!(0+3) 0", "!1=1 0", "(2<1)<1 1", "0-9999 -9999", "3&2=2 1", "2|0=0 1",
@@ -675,7 +680,15 @@ public final class BoundaryTests {
                 "power(2, 0, 0)", "copy(0)", "copy(0)", "copy(0)", "give(1, 1)", "give(2, 2)", "give(3, 3)",
                 "draw(0, 0, 0)", "go(3, 1)", "press(0, 0)").answers("letter(0, 9)", 3)
                 .does("lend(1, 2, 0)").answers("letter(0, 9)", 3).does("die(0)").answers("letter(0, 9)", 3);
+        row(2, 1).does("person(1, 0, 0, 0)", "person(1, 0, 0, 1)", "person(1, 0, 0, 1)", "power(2, 1, 0)", "copy(0)",
+                "give(1, 0)", "power(2, 2, 0)", "draw(1, 0, 0)").answers("letter(0, 9)", 6).does("press(0, 0)")
+                .answers("letter(0, 9)", 2).does("copy(2)", "give(3, 1)", "press(0, 2)").answers("letter(0, 9)", 2)
+                .answers("letter(0, 3)", 5);
+        // Who came when it was DRAWN already may have PRESSED it.
+        row(2, 1).does("person(1, 0, 0, 1)", "person(1, 0, 0, 0)", "power(2, 1, 0)", "draw(0, 0, 0)", "go(1, 1)",
+                "days(1)").answers("letter(0, 9)", 1).does("press(0, 0)").answers("letter(0, 9)", 2);
         sentence("(Without a PRESSING all that were in the TOWN as it was DRAWN.)");
+        row(2, 1).does("person(1, 0, 0, 0)", "person(1, 0, 0, 1)", "draw(1, 0, 0)").answers("letter(0, 9)", 2);
         row(2, 1).does("person(1, 0, 0, 1)", "person(1, 0, 0, 0)", "person(1, 0, 0, 1)", "person(1, 0, 0, 1)",
                 "go(3, 0)", "draw(0, 0, 0)").answers("letter(0, 9)", 5)
                 .does("person(1, 0, 0, 1)", "go(0, 0)", "days(1)").answers("letter(0, 9)", 5);
@@ -795,6 +808,20 @@ public final class BoundaryTests {
                 .refuses("breaks(3)", STATE).does("seat(0, true)").answers("cause(1, 0)", 0)
                 .refuses("breaks(3)", STATE).does("die(2)").refuses("breaks(6)", STATE)
                 .answers("cause(0, 3)", 1).answers("cause(1, 3)", -1);
+        Scene others = court(4);
+        for (int i = 0; i < 4; i++) {
+            others.does("seat(" + i + ", true)");
+        }
+        others.does("promise(3, 3, 9, true)", "promise(3, 4, 9, true)", "promise(2, 4, 9, true)",
+                "promise(2, 3, 9, true)", "promise(1, 3, 9, true)").answers("cause(3, 0)", 3).answers("cause(4, 0)", 2)
+                .does("promise(2, 3, 9, false)").answers("cause(3, 0)", 2).answers("cause(4, 0)", 2)
+                .does("seat(2, false)").answers("cause(3, 0)", 2).answers("cause(4, 0)", 1)
+                .would("breaks(0)", 1).would("breaks(1)", 1).would("breaks(4)", 1);
+        court(1).does("seat(0, true)", "promise(0, 0, 9, true)", "promise(0, 1, 9, true)", "seat(0, false)")
+                .refuses("breaks(0)", STATE).refuses("breaks(1)", STATE).does("seat(0, true)").answers("cause(0, 0)", 0)
+                .answers("cause(1, 0)", 0).answers("cause(0, 3)", -1).answers("cause(1, 3)", -1);
+        court(1).does("seat(0, true)", "promise(0, 0, 9, true)", "promise(0, 1, 9, true)", "die(0)")
+                .refuses("breaks(0)", STATE).refuses("breaks(1)", STATE).answers("cause(0, 3)", -1);
         sentence("WEIGHT of one SEATED: 1, and 1 for each OFFICE (what is under it, too) that it holds");
         Scene w = court(3).does("seat(1, true)");
         int[] weights = {1, 2, 2, 3, 4, 4};
@@ -810,6 +837,11 @@ public final class BoundaryTests {
                 .answers("cause(0, 1)", 1).does("seat(0, false)").law(0, 0, "s").answers("cause(0, 1)", 0)
                 .does("days(1)").answers("cause(0, 1)", 0).does("days(1)").answers("cause(0, 1)", 3)
                 .does("seat(1, false)").answers("cause(0, 1)", 2);
+        row(2, 9).does("person(1, 0, 0, 1)", "person(1, 0, 0, 0)", "seat(1, true)").law(0, 0, "0")
+                .answers("cause(0, 1)", 0).does("seat(0, true)").answers("cause(0, 1)", 2).does("days(8)")
+                .answers("cause(0, 1)", 2).does("days(1)").answers("cause(0, 1)", 0);
+        court(1).does("draw(0, 1, 9)", "seat(0, true)").law(0, 0, "1-w").answers("cause(0, 1)", 1).law(0, 0, "w")
+                .answers("cause(0, 1)", 0).answers("cause(0, 2)", 0);
         sentence("CARRIED is a CAUSE if WEIGHTS of those who promised for it are more than half of all WEIGHTS of the "
                 + "SEATED.");
         court(6).answers("cause(0, 2)", 0).does("seat(1, true)").answers("cause(0, 2)", 0)
@@ -847,6 +879,37 @@ public final class BoundaryTests {
                 "price(4, 2)").answers("buying(0, 0)", 3).answers("buying(0, 1)", 18)
                 .does("price(4, 3)").answers("buying(0, 0)", 3).answers("buying(0, 1)", 14)
                 .does("price(4, 1)").answers("buying(0, 0)", 2).answers("buying(0, 1)", 18);
+    }
+
+    /** SEATED PERSONS with so many OFFICES and such PRICES, of which PERSON 0 has promised for CAUSE 0. */
+    private static Scene weighted(int[] offices, int[] prices) {
+        Scene x = court(offices.length);
+        for (int i = 0; i < offices.length; i++) {
+            x.does("seat(" + i + ", true)", "price(" + i + ", " + prices[i] + ")")
+                    .times(offices[i], "power(1, " + i + ", 0)");
+        }
+        return x.does("promise(0, 0, 9, true)");
+    }
+
+    private static void termOfLevelBuying() {
+        section("Term 6");
+        sentence("of several that with the fewest PERSONS, then the least as bits");
+        // WEIGHTS 1, 1, 2, 2, 3 of 9: 4 more are due, and {1, 4} and {2, 3} have them for 6.
+        weighted(new int[] {0, 0, 1, 1, 2}, new int[] {1, 1, 3, 3, 5}).answers("buying(0, 0)", 6)
+                .answers("buying(0, 1)", 12);
+        // WEIGHTS 1, 3, 1, 2, 2 of 9: {1, 2} and {3, 4} have 4 more for 6.
+        weighted(new int[] {0, 2, 0, 1, 1}, new int[] {1, 5, 1, 3, 3}).answers("buying(0, 0)", 6)
+                .answers("buying(0, 1)", 6);
+        // WEIGHTS 1, 1, 1, 2 of 5: 2 more are due, and {3} and {1, 2} have them for 2.
+        weighted(new int[] {0, 0, 0, 1}, new int[] {1, 1, 1, 2}).answers("buying(0, 0)", 2).answers("buying(0, 1)", 8);
+        weighted(new int[] {0, 1, 0, 0}, new int[] {1, 2, 1, 1}).answers("buying(0, 0)", 2).answers("buying(0, 1)", 2);
+        // WEIGHTS 1, 2, 1, 1, 3 of 8: 4 more are due, for 3 by {1, 2, 3}, {1, 4}, {2, 4} or {3, 4}.
+        weighted(new int[] {0, 1, 0, 0, 2}, new int[] {9, 1, 1, 1, 2}).answers("buying(0, 0)", 3)
+                .answers("buying(0, 1)", 18);
+        // All WEIGHTS are 1: of 8 four more are due, and all PRICES are level.
+        weighted(new int[] {0, 0, 0, 0, 0, 0, 0, 0}, new int[] {1, 7, 7, 7, 7, 7, 7, 7}).answers("buying(0, 0)", 28)
+                .answers("buying(0, 1)", 30).does("price(1, 8)").answers("buying(0, 1)", 60).does("price(7, 6)")
+                .answers("buying(0, 0)", 27).answers("buying(0, 1)", 128 + 28);
     }
 
     private static Scene guards(int... numbers) {
@@ -900,6 +963,13 @@ public final class BoundaryTests {
                 .answers("heir(0)", 3).answers("heir(1)", 1).refuses("heir(2)", NONE)
                 .law(2, 0, "0-1").answers("heir(3)", 5).law(2, 0, "0").refuses("heir(0)", NONE)
                 .does("strike(2)").answers("heir(3)", 5);
+        // PERSON 2 is older than all but farther off than 1 and 3; 4 is farther off than 3, and younger.
+        row(1, 1).does("person(1, -9000, 0, 0)", "person(1, -6000, 100, 0)", "person(0, -9500, 0, 0)",
+                "person(1, -3000, 203, 0)", "person(1, -1000, 400, 0)", "person(0, -2000, 400, 0)")
+                .answers("about(2, 8)", 3).answers("heir(0)", 1).answers("heir(1)", 3).answers("heir(2)", 2)
+                .answers("heir(3)", 5).answers("heir(4)", 4).refuses("heir(5)", NONE);
+        row(1, 1).does("person(1, -9000, 0, 0)", "person(1, -6000, 100, 0)", "draw(0, 2, 3)").law(2, 0, "y|o|w")
+                .refuses("heir(0)", NONE).law(2, 0, "1-w-o").answers("heir(0)", 1);
         sentence("the first day, from the DAY on, on which the law AGE in force then, as KNOWN at the COURT on the "
                 + "DAY, isn't 0 of THE CHILD (a, d as of that day; all else as now)");
         row(2, 1).does("person(1, 0, 0, 1)").law(3, 0, "a").answers("age()", 360).does("days(360)")
@@ -913,6 +983,11 @@ public final class BoundaryTests {
                 .refuses("age()", NONE).law(3, 2000, "1").answers("age()", 2000).law(3, 1999, "1")
                 .answers("age()", 1999).law(3, 10, "0").refuses("age()", NONE).does("strike(4)")
                 .answers("age()", 1999).times(4, "days(400)").does("days(390)").answers("age()", 2000);
+        row(1, 1).does("person(1, -100, 0, 0)", "draw(0, 2, 3)").law(3, 0, "a=3").answers("age()", 980)
+                .law(3, 0, "a>0").answers("age()", 260).does("days(260)").answers("age()", 260).law(3, 0, "y|o|w")
+                .refuses("age()", NONE).law(3, 0, "1-w-o").answers("age()", 260);
+        row(1, 1).does("person(1, -20000, 0, 0)").law(3, 0, "a>55").answers("age()", 160).law(3, 0, "a>60")
+                .answers("age()", 1960).law(3, 0, "a>61").refuses("age()", NONE);
         row(1, 1).does("person(1, 0, 0, 0)").law(3, 0, "a=2&d>800").answers("age()", 801).law(3, 900, "d=1000")
                 .answers("age()", 801).law(3, 801, "0").refuses("age()", NONE);
     }
@@ -929,6 +1004,8 @@ public final class BoundaryTests {
                     .law(3, 0, "a").law(4, 0, texts[i]).answers("age()", 360)
                     .answers("after(0)", held[i]).answers("after(1)", free[i]);
         }
+        court(1).does("power(1, 0, 0)", "draw(0, 2, 3)").law(4, 0, "y|o|w").answers("after(0)", 0).law(4, 0, "1-w-o")
+                .answers("after(0)", 1);
         sentence("in force on that day, as known likewise");
         row(1, 1).does("person(1, 0, 0, 0)", "power(1, 0, 0)").law(3, 0, "a").law(4, 360, "0").answers("after(0)", 0)
                 .law(4, 361, "2").answers("after(0)", 0).law(4, 359, "3").answers("after(0)", 2)
@@ -996,6 +1073,10 @@ public final class BoundaryTests {
         costs(rented(9), 0, 0, 0, 0, 0, 0, 0, 0, 0, 0).refuses("plan(0, -1)", BEYOND);
         costs(rented(9), 0).refuses("plan(0, -1)", BEYOND);
         sentence("(It begins with THE CHEST; all else as it is.)");
+        leaves(costs(costs(rented(10, 10), 1, 0, 0), 0, 1060).answers("plan(1, -1)", 1200), 1020 + 40 - 1060 + 80, 0)
+                .answers("plan(1, 0)", -1).answers("plan(0, 0)", 0).does("own(0, 0)").answers("plan(1, -1)", 1100)
+                .refuses("plan(0, -1)", STATE).does("own(0, -1)").answers("plan(0, -1)", 80).does("rent(0, 11)")
+                .answers("plan(0, 0)", 1).answers("plan(0, -1)", 1 + 88);
         leaves(costs(rented(9).does("pay(0, 1000)"), 0, 9), 72, -1);
         leaves(costs(rented(9).does("pay(0, 1000)"), 0, 45), 0, 0);
         costs(rented(9).does("pay(0, 1000)"), 0, 46).refuses("plan(0, 0)", STATE);
@@ -1122,6 +1203,7 @@ public final class BoundaryTests {
                 .refuses("person(1, 0, 101, 0)", BEYOND).refuses("person(1, 0, 103, 0)", BEYOND)
                 .refuses("person(1, 0, 202, 0)", BEYOND).refuses("person(1, 0, 302, 0)", BEYOND)
                 .refuses("person(1, 0, 2000, 0)", BEYOND).refuses("person(1, 0, 10000, 0)", BEYOND)
+                .beyond("person(1, 10, #, 0)", -1, -100, 1, 3, 21, 99, 103, 200, 300, 301, 2100)
                 .refuses("person(1, -50, 102, 0)", BEYOND).refuses("person(1, -50, 100, 0)", BEYOND)
                 .refuses("person(1, -60, 2, 0)", BEYOND)
                 .would("person(0, -20000, 0, 1)", 2).would("person(1, 10, 0, 0)", 2).would("person(1, -49, 100, 0)", 2)
@@ -1152,6 +1234,9 @@ public final class BoundaryTests {
                 .answers("held(2, 2)", 2).answers("held(2, 4)", -1).answers("held(3, 2)", 0)
                 .answers("held(3, 4)", 9).answers("count(14)", 0);
         court(1).answers("die(0)", 0).answers("count(9)", 1000).answers("about(0, 6)", 1);
+        court(4).does("power(2, 0, 0)", "power(2, 3, 0)", "power(2, 3, 0)", "lend(0, 3, 9)", "lend(1, 0, 9)",
+                "lend(2, 1, 9)", "die(2)").answers("held(0, 2)", 3).answers("held(1, 2)", 0).answers("held(2, 2)", 1)
+                .does("die(1)").answers("held(0, 2)", 3).answers("held(1, 2)", 0).answers("held(2, 2)", 3);
     }
 
     private static void going() {
@@ -1423,6 +1508,8 @@ public final class BoundaryTests {
                 .refuses("open(2)", STATE).does("go(1, 0)").refuses("open(1)", STATE).does("days(3)")
                 .refuses("open(1)", STATE).does("go(1, 1)", "days(3)").would("open(1)", 1).does("die(1)")
                 .refuses("open(1)", STATE).refuses("open(0)", STATE);
+        court(1).does("draw(0, 4, 0)", "send(0, 0)").answers("open(0)", 1).refuses("open(0)", STATE)
+                .answers("letter(0, 6)", 0);
         for (String text : new String[] {"0", "1", "0-1", "2", "w", "y", "o", "c", "s", "d", "t", "9999"}) {
             boolean good = "0yct".indexOf(text) < 0 || text.length() > 1;
             court(1).does("days(1)").law(1, 0, text).does("draw(0, 4, 7)", "send(0, 0)")
@@ -1476,6 +1563,8 @@ public final class BoundaryTests {
         opened(seated, 0, 4, 0).answers("obey(0)", 2).refuses("breaks(1)", STATE).refuses("breaks(3)", STATE)
                 .answers("cause(1, 3)", 1).answers("cause(2, 3)", -1).answers("cause(0, 3)", -1).would("breaks(4)", 1);
         opened(seated, 1, 4, 0).answers("obey(1)", 0);
+        opened(court(1).does("seat(0, true)", "promise(0, 0, 9, true)"), 0, 4, 0).answers("obey(0)", 1)
+                .answers("cause(0, 3)", 0).refuses("breaks(0)", STATE);
     }
 
     private static void aboutLetters() {
@@ -1491,6 +1580,7 @@ public final class BoundaryTests {
         letterIs(x.does("send(0, 1)"), 0, 4, 999, 2, 1, 2, -1, -1, 0, 1);
         letterIs(x.does("days(3)", "open(0)"), 0, 4, 999, 2, 1, 2, 3, 1, 0, 1);
         letterIs(x.does("days(1)", "obey(0)"), 0, 4, 999, 2, 1, 2, 3, 1, 1, 1);
+        letterIs(court(3).does("draw(2, 1, 5)", "send(0, 1)"), 2, 1, 5, 0, 1, 0, -1, -1, 0, 7);
         letterIs(court(1).does("draw(0, 0, 0)", "send(0, 0)").law(1, 0, "0").does("open(0)"), 0, 0, 0, 0, 0, 0, 0, 0,
                 0, 1);
     }
@@ -1631,7 +1721,8 @@ public final class BoundaryTests {
                 .answers("cause(5, 1)", 2);
         x.does("breaks(2)").answers("cause(0, 3)", 2).answers("cause(0, 2)", 0);
         court(1).does("seat(0, true)", "promise(0, 0, 0, true)", "breaks(0)").answers("cause(0, 3)", 0)
-                .does("days(9)", "seat(0, false)").answers("cause(0, 3)", 0);
+                .does("days(9)", "seat(0, false)").answers("cause(0, 3)", 0).does("seat(0, true)")
+                .does("promise(0, 0, 9, true)").answers("cause(0, 3)", 0).does("breaks(1)").answers("cause(0, 3)", 0);
         section("Promise 38");
         sentence("PRICE of a PERSON: what it was. BEYOND.");
         court(2).does("die(1)").beyond("price(#, 1)", -1, 2).beyond("price(0, #)", -1, 0, 1000)
@@ -1959,6 +2050,7 @@ public final class BoundaryTests {
         termOfDebts();
         termOfCouncil();
         termOfBuying();
+        termOfLevelBuying();
         termOfNight();
         termOfFollowing();
         termOfStaying();
