@@ -1042,6 +1042,10 @@ public final class BoundaryTests {
                 + "is THE CHEST, come in");
         leaves(costs(rented(1, 2, 4, 8, 16, 32, 64), 0, 0), 1000 + 63 + 8 * 63, -1);
         leaves(costs(rented(1, 2, 4, 8, 16, 32).does("own(5, 0)", "own(0, 0)"), 0, 0, 0), 1000 + 60 + 240, -1, -1);
+        Scene forfeit = indebted(100, 10, 0).does("town()", "days(180)", "rent(0, 50)", "rent(1, 3)");
+        leaves(costs(forfeit, 0, 3), 24, -1);
+        leaves(costs(forfeit, 0, 15), 0, 1);
+        costs(forfeit, 0, 16).refuses("plan(0, -1)", STATE);
         leaves(costs(rented(7), 0, 1007, 7), 56, -1, -1);
         leaves(costs(rented(7), 0, 1007, 8), 1014 + 28 - 1015, -1, 0);
         leaves(costs(rented(7), 0, 1008, 0), 27, 0, -1);
@@ -1059,11 +1063,15 @@ public final class BoundaryTests {
         leaves(costs(rented(5, 5, 5), 0, 1016), 1015 + 20 - 1016 + 80, 0);
         leaves(costs(rented(5, 5, 5), 0, 1035, 30), 40, 0, 1);
         leaves(costs(rented(5, 5, 5, 5, 5, 5), 0, 1050, 45, 40, 35, 30, 25, 0, 0), 0, 0, 1, 2, 3, 4, 5, -1, -1);
+        leaves(costs(rented(1, 1).does("pay(0, 1000)"), 0, 3, 6), 2, 0, 1);
+        // TOWN 0 ahead of TOWN 1 leaves nothing, and so does TOWN 1, then none, then TOWN 0.
+        leaves(costs(rented(2, 4).does("pay(0, 996)"), 0, 15, 11, 12), 0, 0, 1, -1);
         leaves(costs(rented(3, 3), 0, 0, 1012), 1012 - 1012 + 48, -1, -1);
         leaves(costs(rented(3, 3), 0, 0, 1013), 1012 + 12 - 1013 + 24, -1, 0);
         sentence("that which leaves the most COIN and 8 times the RENT of each of these TOWNS that isn't pledged");
         // TOWN 1 alone is enough for both; TOWNS 0 and 2, one by one, would leave 80 less.
         leaves(costs(rented(20, 30, 20), 0, 1110, 120), 1000 + 70 + 120 - 1110 + 40 - 120 + 320, 1, -1);
+        leaves(costs(rented(2, 1).does("pay(0, 1000)"), 0, 1, 14), 2, 1, 0);
         leaves(costs(rented(10, 11), 0, 1061), 1021 + 40 - 1061 + 88, 0);
         leaves(costs(rented(10, 11), 0, 1062), 1021 + 44 - 1062 + 80, 1);
         leaves(costs(rented(11, 10), 0, 1061), 1021 + 40 - 1061 + 88, 1);
