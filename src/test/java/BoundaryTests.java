@@ -667,6 +667,8 @@ public final class BoundaryTests {
         x.would("obey(0)", 4).would("obey(1)", 0).would("obey(2)", 4).would("obey(3)", 0).would("obey(4)", 2);
         x.answers("obey(0)", 4).answers("about(0, 0)", -1).does("days(4)").answers("about(0, 0)", 2)
                 .answers("obey(1)", 8).does("days(4)").answers("about(0, 0)", 0);
+        court(1).does("draw(0, 1, 0)", "draw(0, 1, 999)", "send(0, 0)", "send(1, 0)", "open(0)", "open(1)", "days(3)")
+                .answers("obey(0)", 3).answers("obey(1)", 3).answers("about(0, 0)", 0);
         sentence("2: POWER WORTH is its own (its HOLDER; LENT no more)");
         court(3).does("power(2, 0, 0)", "lend(0, 1, 99)", "draw(0, 2, 0)", "send(0, 2)", "open(0)")
                 .answers("obey(0)", 0).answers("held(0, 1)", 2).answers("held(0, 2)", 2).answers("held(0, 4)", -1);
@@ -1450,6 +1452,7 @@ public final class BoundaryTests {
                 .beyond("says(0, #, 0)", -2, 2).beyond("says(0, 0, #)", -2, 1).refuses("says(1, 2, 1)", BEYOND)
                 .answers("says(0, 0, 0)", 26 + 999 + 400).answers("says(0, 1, 0)", 26 + 999 + 400)
                 .answers("says(0, -1, 0)", 1399).answers("says(0, 1, -1)", 426).answers("says(0, -1, -1)", 400)
+                .does("draw(0, 3, 7)").answers("says(0, 0, 1)", 26 + 7 + 400).answers("says(0, -1, 1)", 407)
                 .does("strike(0)").answers("says(0, -1, -1)", 400).times(4, "days(400)")
                 .answers("says(0, -1, -1)", 2000);
     }
@@ -1762,6 +1765,10 @@ public final class BoundaryTests {
                 .refuses("night(1, 1, 5, 1)", BEYOND).answers("night(1, 1, 0, 0)", 0).answers("night(1, 3, 4, 0)", 0)
                 .answers("night(2, 1, 0, 1)", 0).answers("night(20, 3, 2, 1)", 0).answers("night(2, 3, 1, 1)", 0)
                 .answers("night(20, 3, 4, 0)", 0);
+        guards(6).refuses("night(6, 3, 0, 1)", NONE).refuses("night(6, 2, 1, 1)", NONE)
+                .refuses("night(6, 3, 2, 1)", NONE).answers("night(7, 2, 1, 1)", 0).answers("night(7, 3, 2, 1)", 0);
+        guards(0, 6).refuses("night(6, 3, 1, 1)", NONE).refuses("night(6, 3, 2, 1)", NONE)
+                .answers("night(6, 3, 0, 1)", 0).answers("night(7, 3, 2, 1)", 0);
     }
 
     private static void followingAndAge() {
