@@ -574,6 +574,12 @@ public final class BoundaryTests {
             means(z, name, "-1, -1", i == 10 ? 3 : 0);
         }
         means(court(2).does("power(1, -1, 0)"), "b", "1, -1", 99);
+        sentence("y how many MARKS are on the LETTER, o its SORT, w its WORTH, d the day.");
+        Scene marked = row(2, 1).does("person(1, 0, 0, 1)").times(3, "power(2, 0, 0)").does("copy(1)", "draw(0, 2, 5)",
+                "draw(0, 3, 6)", "press(1, 0)", "press(1, 1)", "press(1, 2)", "press(1, 3)");
+        means(means(marked, "y", "-1, 0", 0), "y", "-1, 1", 3);
+        means(means(marked, "o", "-1, 0", 2), "o", "-1, 1", 3);
+        means(means(marked, "w", "-1, 0", 5), "w", "-1, 1", 6);
     }
 
     private static void termOfLaws() {
@@ -686,6 +692,8 @@ public final class BoundaryTests {
                 "give(1, 0)", "power(2, 2, 0)", "draw(1, 0, 0)").answers("letter(0, 9)", 6).does("press(0, 0)")
                 .answers("letter(0, 9)", 2).does("copy(2)", "give(3, 1)", "press(0, 2)").answers("letter(0, 9)", 2)
                 .answers("letter(0, 3)", 5);
+        court(3).does("power(2, 0, 0)", "lend(0, 1, 9)", "draw(2, 0, 0)", "press(0, 0)").answers("letter(0, 9)", 2)
+                .does("copy(0)", "give(1, 2)", "draw(2, 0, 0)", "press(1, 1)").answers("letter(1, 9)", 6);
         // Who came when it was DRAWN already may have PRESSED it.
         row(2, 1).does("person(1, 0, 0, 1)", "person(1, 0, 0, 0)", "power(2, 1, 0)", "draw(0, 0, 0)", "go(1, 1)",
                 "days(1)").answers("letter(0, 9)", 1).does("press(0, 0)").answers("letter(0, 9)", 2);
@@ -842,6 +850,8 @@ public final class BoundaryTests {
         row(2, 9).does("person(1, 0, 0, 1)", "person(1, 0, 0, 0)", "seat(1, true)").law(0, 0, "0")
                 .answers("cause(0, 1)", 0).does("seat(0, true)").answers("cause(0, 1)", 2).does("days(8)")
                 .answers("cause(0, 1)", 2).does("days(1)").answers("cause(0, 1)", 0);
+        court(1).does("seat(0, true)", "days(4)").law(0, 0, "d-5").answers("cause(0, 1)", 1).does("days(1)")
+                .answers("cause(0, 1)", 0).does("days(1)").answers("cause(0, 1)", 1);
         court(1).does("draw(0, 1, 9)", "seat(0, true)").law(0, 0, "1-w").answers("cause(0, 1)", 1).law(0, 0, "w")
                 .answers("cause(0, 1)", 0).answers("cause(0, 2)", 0);
         sentence("CARRIED is a CAUSE if WEIGHTS of those who promised for it are more than half of all WEIGHTS of the "
@@ -971,7 +981,8 @@ public final class BoundaryTests {
                 .answers("about(2, 8)", 3).answers("heir(0)", 1).answers("heir(1)", 3).answers("heir(2)", 2)
                 .answers("heir(3)", 5).answers("heir(4)", 4).refuses("heir(5)", NONE);
         row(1, 1).does("person(1, -9000, 0, 0)", "person(1, -6000, 100, 0)", "draw(0, 2, 3)").law(2, 0, "y|o|w")
-                .refuses("heir(0)", NONE).law(2, 0, "1-w-o").answers("heir(0)", 1);
+                .refuses("heir(0)", NONE).law(2, 0, "1-w-o").answers("heir(0)", 1).does("days(4)").law(2, 0, "d-5")
+                .answers("heir(0)", 1).does("days(1)").refuses("heir(0)", NONE).does("days(1)").answers("heir(0)", 1);
         sentence("the first day, from the DAY on, on which the law AGE in force then, as KNOWN at the COURT on the "
                 + "DAY, isn't 0 of THE CHILD (a, d as of that day; all else as now)");
         row(2, 1).does("person(1, 0, 0, 1)").law(3, 0, "a").answers("age()", 360).does("days(360)")
@@ -1011,7 +1022,8 @@ public final class BoundaryTests {
         sentence("in force on that day, as known likewise");
         row(1, 1).does("person(1, 0, 0, 0)", "power(1, 0, 0)").law(3, 0, "a").law(4, 360, "0").answers("after(0)", 0)
                 .law(4, 361, "2").answers("after(0)", 0).law(4, 359, "3").answers("after(0)", 2)
-                .does("strike(3)").answers("after(0)", 0).does("strike(1)").answers("after(0)", 1);
+                .does("strike(3)").answers("after(0)", 0).does("strike(1)").answers("after(0)", 1)
+                .does("days(5)").law(4, 0, "2").answers("after(0)", 2).does("strike(4)").answers("after(0)", 1);
     }
 
     private static Scene costs(Scene x, int sheet, int... numbers) {
