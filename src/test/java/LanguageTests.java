@@ -65,6 +65,25 @@ public final class LanguageTests {
         }
     }
 
+    /** Public and final, with one constructor and calls of objects that answer an int. */
+    private static void testShape() {
+        int shape = SealCouncil.class.getModifiers();
+        if (!Modifier.isPublic(shape) || !Modifier.isFinal(shape) || SealCouncil.class.getSuperclass() != Object.class
+                || SealCouncil.class.getInterfaces().length > 0 || !SealCouncil.class.getPackageName().isEmpty()) {
+            fail("the class is not the document's");
+        }
+        Constructor<?>[] made = SealCouncil.class.getDeclaredConstructors();
+        if (made.length != 1 || made[0].getParameterCount() != 0 || !Modifier.isPublic(made[0].getModifiers())) {
+            fail("the constructor is not the document's");
+        }
+        for (Method m : publicMethods()) {
+            if (m.getReturnType() != int.class || Modifier.isStatic(m.getModifiers())
+                    || m.getExceptionTypes().length > 0) {
+                fail(m + " is not the document's");
+            }
+        }
+    }
+
     private static void testMembers() {
         Class<?>[] inside = SealCouncil.class.getDeclaredClasses();
         if (inside.length + 1 > MOST_CLASSES) {
@@ -199,6 +218,7 @@ public final class LanguageTests {
 
     public static void main(String[] args) throws IOException, IllegalAccessException {
         testFace();
+        testShape();
         testMembers();
         testWords();
         testAnyArguments();
