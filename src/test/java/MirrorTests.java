@@ -18,10 +18,11 @@ import java.util.TreeSet;
 
 /** Random runs of calls on SealCouncil and on Mirror, a second model of the document, must answer alike. */
 public final class MirrorTests {
-    private static final int RUNS = 1500;
+    private static final int RUNS = 1200;
     private static final int CALLS = 512;
     /** look() and what else is begun last take less than this. */
     private static final int LOOKS = 260;
+    private static final int MOST_POSTED = 15;
 
     /** What an argument is: a letter for its range, as argument() reads it. */
     private static final Map<String, String> CALLS_OF = new LinkedHashMap<>();
@@ -59,7 +60,8 @@ public final class MirrorTests {
     private final List<String> log = new ArrayList<>();
 
     private MirrorTests(long seed) {
-        random = new Random(seed);
+        // The first numbers of seeds that lie near one another would be much alike.
+        random = new Random(seed * 0x9e3779b97f4a7c15L);
     }
 
     private int below(int n) {
@@ -385,12 +387,13 @@ public final class MirrorTests {
             call("person", below(2), -below(9000), 0, 0);
             call("seat", i, true);
         }
-        for (int round = 0; round < 40; round++) {
+        int eager = 1 + below(4);
+        for (int round = 0; round < 44; round++) {
             call("price", below(persons), 1 + below(6));
             if (below(3) == 0) {
                 call("power", below(6), below(persons), 1);
             }
-            if (below(3) == 0) {
+            if (below(4) < eager) {
                 call("promise", below(persons), below(2), mirror.realm.day + below(9), below(3) != 0);
             }
             if (below(20) == 0) {
@@ -433,6 +436,160 @@ public final class MirrorTests {
         }
     }
 
+    private void enactText(String text, int use, int from) throws ReflectiveOperationException {
+        for (int i = 0; i < text.length(); i++) {
+            call("feed", (long) text.charAt(i), 1);
+        }
+        call("law", use, from);
+    }
+
+    /** Few PERSONS that travel, with SEALS that are lent and copied, and all that may befall LETTERS. */
+    private void runLetters() throws ReflectiveOperationException {
+        int towns = 2 + below(3);
+        int persons = 3 + below(5);
+        for (int i = 0; i < towns; i++) {
+            call("town");
+            if (i > 0) {
+                call("road", below(i), i, 1 + below(3));
+            }
+        }
+        for (int i = 0; i < persons; i++) {
+            call("person", below(2), -below(9000), 0, below(3) == 0 ? below(towns) : 0);
+            call("power", below(4) == 0 ? 1 : 2, i, below(9));
+            call("seat", i, true);
+        }
+        int end = CALLS - 10 * MOST_POSTED - 4 * persons - 20;
+        while (log.size() < end && mirror.realm.day < 1990) {
+            stepOfLetters(towns, persons);
+        }
+        for (int letter = 0; letter < Math.min(MOST_POSTED, mirror.realm.letters.size()); letter++) {
+            for (int what = 0; what <= 9; what++) {
+                call("letter", letter, what);
+            }
+        }
+        for (int p = 0; p < persons; p++) {
+            call("about", p, 0);
+            call("about", p, 1);
+            call("about", p, 4);
+            call("about", p, 5);
+        }
+        for (int what = 0; what <= 15; what++) {
+            call("count", what);
+        }
+    }
+
+    private void stepOfLetters(int towns, int persons) throws ReflectiveOperationException {
+        int letters = mirror.realm.letters.size();
+        int letter = Math.max(0, letters - 1 - below(3));
+        int power = below(mirror.realm.powers.size());
+        int person = below(persons);
+        switch (below(22)) {
+            case 0: case 1: case 2:
+                if (letters < MOST_POSTED) {
+                    call("draw", person, below(5), below(below(3) == 0 ? 400 : 8));
+                }
+                break;
+            case 3: case 4: case 5: case 6: call("press", letter, power); break;
+            case 7: case 8: call("send", letter, person); break;
+            case 9: case 10: case 11: call("open", below(Math.max(1, letters))); break;
+            case 12: case 13: call("obey", below(Math.max(1, letters))); break;
+            case 14: call("go", person, below(towns)); break;
+            case 15: call("lend", power, person, mirror.realm.day + below(4)); break;
+            case 16: call(below(2) == 0 ? "copy" : "strike", power); break;
+            case 17: call("days", 1 + below(3)); break;
+            case 18: call("promise", person, below(2), mirror.realm.day + below(9), below(3) != 0); break;
+            case 19: call("breaks", below(Math.max(1, mirror.realm.promises.size()))); break;
+            case 20: rareStep(towns, person, power); break;
+            default: askOfLetters(letter, person); break;
+        }
+    }
+
+    private void rareStep(int towns, int person, int power) throws ReflectiveOperationException {
+        String[] texts = {"y", "y>1", "o<3&y", "d-w", "t=0", "k+c>0", "!m|a>9", "w<5"};
+        switch (below(9)) {
+            case 0: call("image"); break;
+            case 1: call("restore"); break;
+            case 2: call("die", person); break;
+            case 3: call("road", below(towns), below(towns), 1 + below(2)); break;
+            case 4: call("give", power, person); break;
+            case 5: call("seat", person, below(2) == 0); break;
+            default: enactText(texts[below(texts.length)], below(2), Math.max(0, mirror.realm.day + below(5) - 2));
+        }
+    }
+
+    private void askOfLetters(int letter, int person) throws ReflectiveOperationException {
+        switch (below(5)) {
+            case 0: call("letter", letter, 9); break;
+            case 1: call("about", person, 4); break;
+            case 2: call("cause", below(2), below(4)); break;
+            case 3: call("force", below(2), mirror.realm.day, mirror.realm.day - below(4)); break;
+            default: call("count", 15);
+        }
+    }
+
+    /** The number, and 1, of one that may be a parent of that SEX; 0 if none is found. */
+    private int parentOf(int born, int sex) {
+        for (int i = 0; i < 6; i++) {
+            int p = below(mirror.realm.persons.size());
+            boolean fits = mirror.realm.persons.get(p).sex == sex && mirror.realm.persons.get(p).born < born;
+            if (fits || below(60) == 0) {
+                return p + 1;
+            }
+        }
+        return 0;
+    }
+
+    /** A family, so that most PERSONS are of THE CHILD's blood, and who FOLLOWS while some die. */
+    private void runKin() throws ReflectiveOperationException {
+        call("town");
+        call("person", below(2), -5000 + below(3), 0, 0);
+        String[] texts = {"s", "!s", "a>20", "b<4", "b-2", "a+s>15", "!k", "d>100", "1", "a<40", "t=0"};
+        for (int round = 0; round < 26; round++) {
+            Mirror.Realm r = mirror.realm;
+            int born = Math.min(r.day, -8000 + below(5) * 2000 + below(2));
+            call("person", below(2), born, 100 * parentOf(born, 1) + parentOf(born, 0), 0);
+            if (below(6) == 0) {
+                enactText(texts[below(texts.length)], 2, below(3) == 0 ? below(200) : 0);
+            }
+            if (below(8) == 0) {
+                call("strike", below(Math.max(1, r.laws.size())));
+            }
+            if (below(6) == 0) {
+                call("die", below(r.persons.size()));
+            }
+            if (below(5) == 0) {
+                call("days", 1 + below(60));
+            }
+            for (int i = 0; i < 5; i++) {
+                call("heir", below(6));
+            }
+            call("about", below(r.persons.size()), 8);
+        }
+        for (int i = 0; i < 20; i++) {
+            call("heir", i);
+        }
+    }
+
+    /** VOICES of all KINDS with their traces, and nights that are often just won or just lost. */
+    private void runVoices() throws ReflectiveOperationException {
+        for (int i = 0; i < 10; i++) {
+            call("power", below(6), -1, below(100));
+            call("voice", i, below(4), below(2) == 0 ? random.nextInt() : below(50));
+            for (int j = 0; j < 14; j++) {
+                call("trace", j);
+            }
+        }
+        for (int round = 0; round < 10; round++) {
+            for (int gate = 0; gate < 5; gate++) {
+                call("guard", gate, below(below(2) == 0 ? 3 : 7));
+            }
+            int least = below(12);
+            for (int i = 0; i < 12; i++) {
+                call("night", 1 + least + below(8), 1 + below(3), below(3), below(2));
+            }
+        }
+    }
+
     private static boolean areAllSeen() {
         boolean all = true;
         for (String one : FINDINGS.split(" ")) {
@@ -458,12 +615,15 @@ public final class MirrorTests {
                 new MirrorTests(seed).runPlans();
                 new MirrorTests(seed).runCouncil();
                 new MirrorTests(seed).runAges();
+                new MirrorTests(seed).runLetters();
+                new MirrorTests(seed).runKin();
+                new MirrorTests(seed).runVoices();
             } catch (IllegalStateException e) {
                 System.out.println("seed " + seed + "\n" + e.getMessage());
                 System.exit(1);
             }
         }
-        System.out.println(4 * runs + " runs are alike");
+        System.out.println(7 * runs + " runs are alike");
         if (!areAllSeen()) {
             System.exit(1);
         }
