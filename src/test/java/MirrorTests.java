@@ -1903,7 +1903,8 @@ public final class MirrorTests {
             if (bits != 0 && n > 24) {
                 return find(BEYOND);
             }
-            sheets[sheet] = bits == 0 ? null : bits == 8 ? new byte[n] : bits == 16 ? (Object) new short[n] : new int[n];
+            sheets[sheet] = bits == 0 ? null : bits == 8 ? new byte[n]
+                    : bits == 16 ? (Object) new short[n] : new int[n];
             return 1;
         }
 
@@ -1937,7 +1938,8 @@ public final class MirrorTests {
             if (bitsOf(sheet) != bitsOf(other)) {
                 return find(KIND);
             }
-            if (i < 0 || j < 0 || n < 0 || (long) i + n > numbers(sheet).length || (long) j + n > numbers(other).length) {
+            if (i < 0 || j < 0 || n < 0 || (long) i + n > numbers(sheet).length
+                    || (long) j + n > numbers(other).length) {
                 return find(BEYOND);
             }
             System.arraycopy(sheets[sheet], i, sheets[other], j, n);
